@@ -123,7 +123,7 @@ public final class CypherRing {
     }
 
     public int syllables(int word) throws IndexOutOfBoundsException {
-        requireWord(word);
+        requireIndex(word, lexicon.count);
         return lexicon.length[word];
     }
 
@@ -135,22 +135,22 @@ public final class CypherRing {
     }
 
     public char rhyme(int word, int other, int region) throws IndexOutOfBoundsException, IllegalArgumentException {
-        requireWord(word);
-        requireWord(other);
+        requireIndex(word, lexicon.count);
+        requireIndex(other, lexicon.count);
         requireRange(region, 0, MAX_REGION);
         return lexicon.kindOf(word, other, region);
     }
 
     public int near(int word, int other, int region) throws IndexOutOfBoundsException, IllegalArgumentException {
-        requireWord(word);
-        requireWord(other);
+        requireIndex(word, lexicon.count);
+        requireIndex(other, lexicon.count);
         requireRange(region, 0, MAX_REGION);
         return lexicon.distance(word, other, region);
     }
 
     public int bestRhyme(int word, int region)
             throws IndexOutOfBoundsException, IllegalArgumentException, NoSuchElementException {
-        requireWord(word);
+        requireIndex(word, lexicon.count);
         requireRange(region, 0, MAX_REGION);
         int best = lexicon.bestFor(word, region);
         if (best < 0) {
@@ -187,24 +187,24 @@ public final class CypherRing {
     }
 
     public int rating(int performer) throws IndexOutOfBoundsException {
-        requirePerformer(performer);
+        requireIndex(performer, league.count);
         return league.rating[performer];
     }
 
     public int tier(int performer) throws IndexOutOfBoundsException {
-        requirePerformer(performer);
+        requireIndex(performer, league.count);
         return league.tier[performer];
     }
 
     public int money(int performer) throws IndexOutOfBoundsException {
-        requirePerformer(performer);
+        requireIndex(performer, league.count);
         return league.money[performer];
     }
 
     public int challenge(int performer, int other, int purse)
             throws IndexOutOfBoundsException, IllegalArgumentException, UnsupportedOperationException {
-        requirePerformer(performer);
-        requirePerformer(other);
+        requireIndex(performer, league.count);
+        requireIndex(other, league.count);
         if (performer == other) {
             throw new IllegalArgumentException("both are the same");
         }
@@ -272,7 +272,7 @@ public final class CypherRing {
 
     public int say(int word, int at) throws IndexOutOfBoundsException, IllegalArgumentException,
             IllegalStateException, UnsupportedOperationException {
-        requireWord(word);
+        requireIndex(word, lexicon.count);
         requireRange(at, 0, BAR_PARTS - 1);
         requireTurn();
         int end = at + SYLLABLE_PARTS * lexicon.length[word];
@@ -329,7 +329,7 @@ public final class CypherRing {
     }
 
     public int wordAt(int bar, int index) throws IndexOutOfBoundsException, NoSuchElementException {
-        requireBar(bar);
+        requireIndex(bar, book.closed);
         if (index < 0 || index >= book.size(bar)) {
             throw new NoSuchElementException("the bar has no such word");
         }
@@ -337,29 +337,29 @@ public final class CypherRing {
     }
 
     public int landings(int bar) throws IndexOutOfBoundsException {
-        requireBar(bar);
+        requireIndex(bar, book.closed);
         return book.landed[bar];
     }
 
     public int answers(int bar) throws IndexOutOfBoundsException {
-        requireBar(bar);
+        requireIndex(bar, book.closed);
         return book.answered[bar];
     }
 
     public int chain(int bar, int other, int region) throws IndexOutOfBoundsException, IllegalArgumentException {
-        requireBar(bar);
-        requireBar(other);
+        requireIndex(bar, book.closed);
+        requireIndex(other, book.closed);
         requireRange(region, 0, MAX_REGION);
         return chainOf(bar, other, region);
     }
 
     public boolean wasHeard(int bar) throws IndexOutOfBoundsException {
-        requireBar(bar);
+        requireIndex(bar, book.closed);
         return book.heard[bar];
     }
 
     public int languages(int bar) throws IndexOutOfBoundsException {
-        requireBar(bar);
+        requireIndex(bar, book.closed);
         int set = 0;
         for (int i = book.start[bar]; i < book.start[bar + 1]; i++) {
             set |= 1 << lexicon.language[book.word[i]];
@@ -368,7 +368,7 @@ public final class CypherRing {
     }
 
     public int firstUser(int word) throws IndexOutOfBoundsException, NoSuchElementException {
-        requireWord(word);
+        requireIndex(word, lexicon.count);
         int user = lexicon.firstUser[word];
         if (user < 0) {
             throw new NoSuchElementException("nobody used the word");
@@ -408,7 +408,7 @@ public final class CypherRing {
 
     public int card(int judge, int round, int region)
             throws IndexOutOfBoundsException, IllegalArgumentException, NoSuchElementException {
-        requireJudge(judge);
+        requireIndex(judge, jury.count);
         requireNotNegative(round);
         requireRange(region, 0, MAX_REGION);
         requireRound(round);
@@ -417,7 +417,7 @@ public final class CypherRing {
 
     public char isFor(int judge, int region)
             throws IndexOutOfBoundsException, IllegalArgumentException, NoSuchElementException {
-        requireJudge(judge);
+        requireIndex(judge, jury.count);
         requireRange(region, 0, MAX_REGION);
         requireBattle();
         return judgeVerdict(judge, region);
@@ -461,13 +461,13 @@ public final class CypherRing {
     }
 
     public boolean needsClearing(int sample) throws IndexOutOfBoundsException {
-        requireSample(sample);
+        requireIndex(sample, samples.count);
         return samples.isOpen(sample);
     }
 
     public int clear(int sample, int performer) throws IndexOutOfBoundsException, UnsupportedOperationException {
-        requireSample(sample);
-        requirePerformer(performer);
+        requireIndex(sample, samples.count);
+        requireIndex(performer, league.count);
         if (!samples.isOpen(sample)) {
             throw new UnsupportedOperationException("it needs no clearing");
         }
@@ -547,33 +547,9 @@ public final class CypherRing {
         }
     }
 
-    private void requireWord(int word) {
-        if (word < 0 || word >= lexicon.count) {
-            throw new IndexOutOfBoundsException("no such word");
-        }
-    }
-
-    private void requirePerformer(int performer) {
-        if (performer < 0 || performer >= league.count) {
-            throw new IndexOutOfBoundsException("no such performer");
-        }
-    }
-
-    private void requireBar(int bar) {
-        if (bar < 0 || bar >= book.closed) {
-            throw new IndexOutOfBoundsException("no such bar");
-        }
-    }
-
-    private void requireJudge(int judge) {
-        if (judge < 0 || judge >= jury.count) {
-            throw new IndexOutOfBoundsException("no such judge");
-        }
-    }
-
-    private void requireSample(int sample) {
-        if (sample < 0 || sample >= samples.count) {
-            throw new IndexOutOfBoundsException("no such sample");
+    private static void requireIndex(int index, int count) {
+        if (index < 0 || index >= count) {
+            throw new IndexOutOfBoundsException("there is none of that number");
         }
     }
 
@@ -651,9 +627,9 @@ public final class CypherRing {
             case RHYMES:
                 return rhymeMarks(turn, region);
             case LANDINGS:
-                return landingMarks(turn);
+                return sumOfBars(book.landed, turn);
             case ANSWERS:
-                return answerMarks(turn);
+                return sumOfBars(book.answered, turn);
             default:
                 return chainMarks(turn, region);
         }
@@ -669,21 +645,11 @@ public final class CypherRing {
         return sum;
     }
 
-    private int landingMarks(int turn) {
+    private int sumOfBars(int[] marksOfBars, int turn) {
         int sum = 0;
         for (int bar = 0; bar < book.closed; bar++) {
             if (book.counts(bar, turn)) {
-                sum += book.landed[bar];
-            }
-        }
-        return sum;
-    }
-
-    private int answerMarks(int turn) {
-        int sum = 0;
-        for (int bar = 0; bar < book.closed; bar++) {
-            if (book.counts(bar, turn)) {
-                sum += book.answered[bar];
+                sum += marksOfBars[bar];
             }
         }
         return sum;

@@ -24,6 +24,13 @@ final class Check {
         due(what, "throws." + want.getName(), call);
     }
 
+    /** A call throws just this exception, and the ring tells the same as ahead of it. */
+    static void dueThrow(CypherRing x, String what, Class<?> want, Call call) {
+        String before = Ring.told(x);
+        dueThrow(what, want, call);
+        due(what + " changed nothing", true, () -> Ring.told(x).equals(before));
+    }
+
     static Object result(Call call) {
         try {
             return call.answer();
