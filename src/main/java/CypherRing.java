@@ -39,8 +39,6 @@ public final class CypherRing {
     private static final int MAX_BARS = 24;
     private static final int MAX_BAR_WORDS = 16;
     private static final int MAX_BAR_SYLLABLES = 16;
-    private static final int CROWD_ROUNDS = 2;
-    private static final int CROWD_WEIGHTS = 1111;
     private static final long DRAW_FACTOR = 48271L;
     private static final long DRAW_MODULUS = 2147483647L;
 
@@ -49,6 +47,9 @@ public final class CypherRing {
     private static final int MAX_KEPT_SYLLABLES = 2048;
 
     private static final int MAX_JUDGES = 5;
+    private static final int CROWD = MAX_JUDGES;
+    private static final int CROWD_ROUNDS = 2;
+    private static final int CROWD_WEIGHTS = 1111;
     private static final int MAX_WEIGHTS = 9999;
     private static final int MAX_LEANING = 20;
     private static final int RHYMES = 0;
@@ -403,7 +404,17 @@ public final class CypherRing {
         requireRange(what, RHYMES, CHAINS);
         requireRange(region, 0, MAX_REGION);
         requireRound(round);
-        return marksOf(2 * round + side, what, region);
+        int turn = 2 * round + side;
+        switch (what) {
+            case RHYMES:
+                return rhymeMarks(turn, region);
+            case LANDINGS:
+                return sumOfBars(book.landed, turn);
+            case ANSWERS:
+                return sumOfBars(book.answered, turn);
+            default:
+                return chainMarks(turn, region);
+        }
     }
 
     public int card(int judge, int round, int region)
@@ -412,7 +423,7 @@ public final class CypherRing {
         requireNotNegative(round);
         requireRange(region, 0, MAX_REGION);
         requireRound(round);
-        return cardOf(jury.weights[judge], jury.leaning[judge], round, region);
+        return cardOf(judge, round, region);
     }
 
     public char isFor(int judge, int region)
@@ -420,13 +431,13 @@ public final class CypherRing {
         requireIndex(judge, jury.count);
         requireRange(region, 0, MAX_REGION);
         requireBattle();
-        return judgeVerdict(judge, region);
+        return letterOf(leadBy(judge, battle.rounds, region));
     }
 
     public char crowd(int region) throws IllegalArgumentException, NoSuchElementException {
         requireRange(region, 0, MAX_REGION);
         requireBattle();
-        return crowdVerdict(region);
+        return letterOf(leadBy(CROWD, Math.min(battle.rounds, CROWD_ROUNDS), region));
     }
 
     public int decide(int region) throws IllegalArgumentException, IllegalStateException {
@@ -435,7 +446,10 @@ public final class CypherRing {
             throw new IllegalStateException("no battle waits for the decision");
         }
         battle.on = false;
-        int lead = leadOfFirst(region);
+        int lead = leadBy(CROWD, Math.min(battle.rounds, CROWD_ROUNDS), region);
+        for (int judge = 0; judge < jury.count; judge++) {
+            lead += leadBy(judge, battle.rounds, region);
+        }
         int first = battle.performer[0];
         int second = battle.performer[1];
         if (lead == 0) {
@@ -622,19 +636,6 @@ public final class CypherRing {
 
     // ---- cards
 
-    private int marksOf(int turn, int what, int region) {
-        switch (what) {
-            case RHYMES:
-                return rhymeMarks(turn, region);
-            case LANDINGS:
-                return sumOfBars(book.landed, turn);
-            case ANSWERS:
-                return sumOfBars(book.answered, turn);
-            default:
-                return chainMarks(turn, region);
-        }
-    }
-
     private int rhymeMarks(int turn, int region) {
         int sum = 0;
         for (int bar = 1; bar < book.closed; bar++) {
@@ -665,54 +666,35 @@ public final class CypherRing {
         return longest;
     }
 
-    private int cardOf(int weights, int leaning, int round, int region) {
+    private int cardOf(int judge, int round, int region) {
         int first = 2 * round;
-        int sum = leaning;
-        int digits = weights;
-        for (int what = CHAINS; what >= RHYMES; what--) {
-            sum += digits % 10 * (marksOf(first, what, region) - marksOf(first + 1, what, region));
-            digits /= 10;
-        }
-        return sum;
+        int second = first + 1;
+        int weights = jury.weights[judge];
+        int rhymes = rhymeMarks(first, region) - rhymeMarks(second, region);
+        int landings = sumOfBars(book.landed, first) - sumOfBars(book.landed, second);
+        int answers = sumOfBars(book.answered, first) - sumOfBars(book.answered, second);
+        int chains = chainMarks(first, region) - chainMarks(second, region);
+        return weights / 1000 * rhymes + weights / 100 % 10 * landings + weights / 10 % 10 * answers
+                + weights % 10 * chains + jury.leaning[judge];
     }
 
-    private char verdict(int weights, int leaning, int rounds, int region) {
+    /* 1 if the judge, or the crowd, is for the first side, -1 if for the second one, 0 if for nobody. */
+    private int leadBy(int judge, int rounds, int region) {
         int roundsAhead = 0;
         int sum = 0;
         for (int round = 0; round < rounds; round++) {
-            int points = cardOf(weights, leaning, round, region);
+            int points = cardOf(judge, round, region);
             roundsAhead += Integer.compare(points, 0);
             sum += points;
         }
-        int lead = roundsAhead != 0 ? roundsAhead : sum;
+        return Integer.compare(roundsAhead != 0 ? roundsAhead : sum, 0);
+    }
+
+    private static char letterOf(int lead) {
         if (lead == 0) {
             return '-';
         }
         return lead > 0 ? 'f' : 's';
-    }
-
-    private char judgeVerdict(int judge, int region) {
-        return verdict(jury.weights[judge], jury.leaning[judge], battle.rounds, region);
-    }
-
-    private char crowdVerdict(int region) {
-        return verdict(CROWD_WEIGHTS, 0, Math.min(battle.rounds, CROWD_ROUNDS), region);
-    }
-
-    /* How many more of the judges and the crowd are for the first side than for the second one. */
-    private int leadOfFirst(int region) {
-        int lead = voteOf(crowdVerdict(region));
-        for (int judge = 0; judge < jury.count; judge++) {
-            lead += voteOf(judgeVerdict(judge, region));
-        }
-        return lead;
-    }
-
-    private static int voteOf(char verdict) {
-        if (verdict == 'f') {
-            return 1;
-        }
-        return verdict == 's' ? -1 : 0;
     }
 
     /** The words, and how their vowels sound by regions. The word that is made lies behind the numbered ones. */
@@ -801,10 +783,6 @@ public final class CypherRing {
             return word * MAX_SYLLABLES + length[word];
         }
 
-        boolean areVowelsLike(int i, int j, int region) {
-            return sounding(region, vowel[i]) == sounding(region, vowel[j]);
-        }
-
         boolean areIdentical(int word, int other, int region) {
             if (length[word] != length[other]) {
                 return false;
@@ -812,7 +790,8 @@ public final class CypherRing {
             for (int k = 0; k < length[word]; k++) {
                 int i = word * MAX_SYLLABLES + k;
                 int j = other * MAX_SYLLABLES + k;
-                if (onset[i] != onset[j] || coda[i] != coda[j] || !areVowelsLike(i, j, region)) {
+                boolean areVowelsLike = sounding(region, vowel[i]) == sounding(region, vowel[j]);
+                if (onset[i] != onset[j] || coda[i] != coda[j] || !areVowelsLike) {
                     return false;
                 }
             }
@@ -825,7 +804,9 @@ public final class CypherRing {
                 return false;
             }
             for (int back = 1; back <= tail; back++) {
-                if (!areVowelsLike(endOf(word) - back, endOf(other) - back, region)) {
+                int i = endOf(word) - back;
+                int j = endOf(other) - back;
+                if (sounding(region, vowel[i]) != sounding(region, vowel[j])) {
                     return false;
                 }
             }
@@ -1166,11 +1147,15 @@ public final class CypherRing {
         }
     }
 
-    /** The judges. */
+    /** The judges; behind them all the crowd, who leans to nobody. */
     private static final class Jury {
-        private final int[] weights = new int[MAX_JUDGES];
-        private final int[] leaning = new int[MAX_JUDGES];
+        private final int[] weights = new int[MAX_JUDGES + 1];
+        private final int[] leaning = new int[MAX_JUDGES + 1];
         private int count;
+
+        Jury() {
+            weights[CROWD] = CROWD_WEIGHTS;
+        }
 
         int add(int newWeights, int newLeaning) {
             int judge = count;

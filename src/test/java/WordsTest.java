@@ -17,6 +17,7 @@ public final class WordsTest {
         syllables();
         setAccent();
         rhymeIdentical();
+        rhymeIdenticalBesideOtherSounds();
         rhymePerfect();
         rhymeByVowelsOrSlantly();
         rhymeOfTailsAlone();
@@ -159,6 +160,19 @@ public final class WordsTest {
         Check.due("7 not in another region", 'v', () -> x.rhyme(0, 2, 1));
         x.setAccent(2, 2, 7);
         Check.due("7 a sound is not heard again as another", 'v', () -> x.rhyme(0, 2, 2));
+    }
+
+    private static void rhymeIdenticalBesideOtherSounds() {
+        CypherRing x = new CypherRing();
+        Ring.word(x, 1111, 2220, 3330, 4440);
+        Ring.word(x, 1111, 2220, 3330, 4440);
+        Ring.word(x, 5551);
+        x.addSyllable(1, 1, 1, true);
+        x.addSyllable(9, 7, 9, true);
+        Ring.word(x, 5551);
+        Check.due("7 four like syllables", 'i', () -> x.rhyme(0, 1, 0));
+        Check.due("7 whatever was made and cleared", 'i', () -> x.rhyme(2, 3, 0));
+        Check.due("5 without what was cleared", 1, () -> x.syllables(3));
     }
 
     private static void rhymePerfect() {
