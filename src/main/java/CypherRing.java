@@ -431,13 +431,13 @@ public final class CypherRing {
         requireIndex(judge, jury.count);
         requireRange(region, 0, MAX_REGION);
         requireBattle();
-        return letterOf(leadBy(judge, battle.rounds, region));
+        return letterOf(leadBy(judge, region));
     }
 
     public char crowd(int region) throws IllegalArgumentException, NoSuchElementException {
         requireRange(region, 0, MAX_REGION);
         requireBattle();
-        return letterOf(leadBy(CROWD, Math.min(battle.rounds, CROWD_ROUNDS), region));
+        return letterOf(leadBy(CROWD, region));
     }
 
     public int decide(int region) throws IllegalArgumentException, IllegalStateException {
@@ -446,9 +446,9 @@ public final class CypherRing {
             throw new IllegalStateException("no battle waits for the decision");
         }
         battle.on = false;
-        int lead = leadBy(CROWD, Math.min(battle.rounds, CROWD_ROUNDS), region);
+        int lead = leadBy(CROWD, region);
         for (int judge = 0; judge < jury.count; judge++) {
-            lead += leadBy(judge, battle.rounds, region);
+            lead += leadBy(judge, region);
         }
         int first = battle.performer[0];
         int second = battle.performer[1];
@@ -679,7 +679,8 @@ public final class CypherRing {
     }
 
     /* 1 if the judge, or the crowd, is for the first side, -1 if for the second one, 0 if for nobody. */
-    private int leadBy(int judge, int rounds, int region) {
+    private int leadBy(int judge, int region) {
+        int rounds = judge == CROWD ? Math.min(battle.rounds, CROWD_ROUNDS) : battle.rounds;
         int roundsAhead = 0;
         int sum = 0;
         for (int round = 0; round < rounds; round++) {

@@ -465,6 +465,10 @@ public final class CardsTest {
         w.addJudge(0, 0);
         w.addJudge(0, -20);
         Check.due("41 one, the others for nobody", 0, () -> w.decide(0));
+        Check.due("41 the crowd by two rounds of three", 1, () -> rounds(1, 0, 0, 0, 0, 4).decide(0));
+        CypherRing u = rounds(1, 0, 0, 0, 0, 4);
+        u.addJudge(1111, 0);
+        Check.due("41 a judge by all three", -1, () -> u.decide(0));
         CypherRing v = battle(withRhymes(), 1, 2);
         Ring.bar(v, 3);
         Ring.bar(v, 4);
