@@ -1,6 +1,6 @@
 import java.util.NoSuchElementException;
 
-/** Promises 36 to 41: judges, marks, cards, the crowd and decisions. */
+/** Promises 36 to 40: judges, marks, cards and the crowd. */
 public final class CardsTest {
     private static final Class<?> RANGE = IllegalArgumentException.class;
     private static final Class<?> STATE = IllegalStateException.class;
@@ -15,29 +15,27 @@ public final class CardsTest {
         marksOfAnswers();
         marksOfChains();
         marksWithoutBarsThatWereHeard();
+        marksByThePlaceOfTheOneHeard();
+        marksOfAllTurns();
         marksOfTurns();
         marksThrows();
         card();
         cardThrows();
+        cardOfTheLeaning();
         isForMoreRounds();
         isForTheGreaterSum();
+        isForByOne();
+        isForByTheRegion();
         isForThrows();
         crowd();
         crowdWeighsAllAlike();
+        crowdByOne();
         crowdThrows();
-        decide();
-        decideThrows();
-        decideByMore();
-        decideDrawn();
-        decideStyles();
-        decideRatings();
-        decideRatingsAtTheLimits();
-        decideTiers();
         Check.end();
     }
 
     /** Two performers, 1 being first, in a battle with a pocket of 0. */
-    private static CypherRing battle(CypherRing x, int rounds, int bars) {
+    private static Tape battle(Tape x, int rounds, int bars) {
         Ring.performers(x, 0, 0);
         x.setBeat(90, 0);
         x.challenge(0, 1, 0);
@@ -45,53 +43,30 @@ public final class CardsTest {
         return x;
     }
 
-    private static void one(CypherRing x, int word, int at) {
+    private static void one(Tape x, int word, int at) {
         x.say(word, at);
         x.closeBar();
     }
 
-    /** Ends the turn that has been begun, the first side's landings in it being as many as told, the other's none. */
-    private static void turnWithLandings(CypherRing x, int landings) {
-        if (landings == 0) {
-            x.choke();
-            return;
-        }
-        for (int i = 0; i < landings; i++) {
-            x.say(0, 100 * i);
-        }
-        x.closeBar();
-    }
-
-    /** A battle of rounds of one bar, in which landings alone tell: for each round those of both sides. */
-    private static CypherRing rounds(int... landings) {
-        CypherRing x = new CypherRing();
-        Ring.word(x, 1111);
-        Ring.performers(x, 0, 0);
-        x.challenge(0, 1, 0);
-        x.begin(landings.length / 2, 1);
-        for (int count : landings) {
-            turnWithLandings(x, count);
-        }
-        return x;
-    }
-
     private static void addJudge() {
-        CypherRing x = new CypherRing();
-        Check.dueThrow(x, "36 weights -1", RANGE, () -> x.addJudge(-1, 0));
-        Check.dueThrow(x, "36 weights 10000", RANGE, () -> x.addJudge(10000, 0));
-        Check.dueThrow(x, "36 leaning -21", RANGE, () -> x.addJudge(0, -21));
-        Check.dueThrow(x, "36 leaning 21", RANGE, () -> x.addJudge(0, 21));
-        Check.due("36 first", 0, () -> x.addJudge(0, -20));
-        Check.due("36 second", 1, () -> x.addJudge(9999, 20));
+        Tape x = new Tape();
+        addJudgeOutOfRange(x, "the first one");
+        Check.due("36 first, lowest numbers", 0, () -> x.addJudge(0, -20));
+        Check.due("36 second, highest numbers", 1, () -> x.addJudge(9999, 20));
         for (int i = 2; i < 5; i++) {
             Check.due("36 next", i, () -> x.addJudge(1234, 0));
         }
         Check.dueThrow(x, "36 the sixth", STATE, () -> x.addJudge(0, 0));
-        Check.dueThrow(x, "36 range ahead of too many", RANGE, () -> x.addJudge(0, 21));
+        addJudgeOutOfRange(x, "the sixth");
     }
 
-    private static CypherRing withRhymes() {
-        CypherRing x = new CypherRing();
+    private static void addJudgeOutOfRange(Tape x, String when) {
+        Check.dueThrowBeyond(x, "36 " + when + ", weights", RANGE, 0, 9999, n -> x.addJudge(n, 0));
+        Check.dueThrowBeyond(x, "36 " + when + ", leaning", RANGE, -20, 20, n -> x.addJudge(0, n));
+    }
+
+    private static Tape withRhymes() {
+        Tape x = new Tape();
         Ring.word(x, 1011);
         Ring.word(x, 2011);
         Ring.word(x, 2021);
@@ -103,13 +78,13 @@ public final class CardsTest {
     private static void marksOfRhymes() {
         int[][] pairs = {{0, 1, 3}, {0, 2, 2}, {2, 3, 1}, {0, 4, 0}, {0, 0, 0}, {3, 2, 1}};
         for (int[] pair : pairs) {
-            CypherRing x = battle(withRhymes(), 1, 2);
+            Tape x = battle(withRhymes(), 1, 2);
             Ring.bar(x, 4, pair[0]);
             Check.due("37 one bar", 0, () -> x.marks(0, 0, 0, 0));
             Ring.bar(x, 4, pair[1]);
             Check.due("37 ends " + pair[0] + " and " + pair[1], pair[2], () -> x.marks(0, 0, 0, 0));
         }
-        CypherRing x = battle(withRhymes(), 1, 3);
+        Tape x = battle(withRhymes(), 1, 3);
         Ring.bar(x, 0);
         Ring.bar(x, 4);
         Check.due("37 unlike ends", 0, () -> x.marks(0, 0, 0, 2));
@@ -119,7 +94,7 @@ public final class CardsTest {
     }
 
     private static void marksOfRhymesNextToEachOther() {
-        CypherRing x = battle(withRhymes(), 2, 4);
+        Tape x = battle(withRhymes(), 2, 4);
         Ring.bar(x, 0);
         Ring.bar(x, 1);
         Ring.bar(x, 0);
@@ -138,7 +113,7 @@ public final class CardsTest {
     }
 
     private static void marksOfLandings() {
-        CypherRing x = battle(Ring.withWords(1), 1, 2);
+        Tape x = battle(Ring.withWords(1), 1, 2);
         x.say(0, 0);
         x.say(0, 100);
         x.say(0, 150);
@@ -151,7 +126,7 @@ public final class CardsTest {
     }
 
     private static void marksOfAnswers() {
-        CypherRing x = battle(Ring.withWords(4), 2, 2);
+        Tape x = battle(Ring.withWords(4), 2, 2);
         Ring.bar(x, 0, 1);
         Ring.bar(x, 2);
         Ring.bar(x, 0, 1, 3, 1);
@@ -164,7 +139,7 @@ public final class CardsTest {
     }
 
     private static void marksOfChains() {
-        CypherRing x = new CypherRing();
+        Tape x = new Tape();
         for (int vowel = 0; vowel < 4; vowel++) {
             Ring.word(x, 1001 + 100 * vowel);
         }
@@ -184,7 +159,7 @@ public final class CardsTest {
         x.setAccent(1, 2, 3);
         Check.due("37 by the region", 3, () -> x.marks(0, 0, 3, 1));
         Check.due("37 by another region", 2, () -> x.marks(0, 0, 3, 0));
-        CypherRing y = battle(Ring.withWords(2), 1, 2);
+        Tape y = battle(Ring.withWords(2), 1, 2);
         Ring.bar(y, 0);
         y.choke();
         Ring.bar(y, 0);
@@ -192,7 +167,7 @@ public final class CardsTest {
     }
 
     private static void marksWithoutBarsThatWereHeard() {
-        CypherRing x = battle(withRhymes(), 1, 4);
+        Tape x = battle(withRhymes(), 1, 4);
         Ring.bar(x, 1);
         x.choke();
         Ring.bar(x, 0);
@@ -222,8 +197,49 @@ public final class CardsTest {
         Check.due("37 chains of those that were not", 2, () -> x.marks(0, 1, 3, 0));
     }
 
+    /** The second battle's turn of three bars, with the one that was heard at each of its places. */
+    private static void marksByThePlaceOfTheOneHeard() {
+        int[][] ends = {{0, 1, 2}, {1, 0, 2}, {1, 2, 0}, {0, 0, 0}, {1, 2, 1}};
+        int[][] marks = {{2, 2, 1}, {0, 2, 0}, {2, 2, 1}, {0, 0, 0}, {4, 3, 1}};
+        for (int i = 0; i < ends.length; i++) {
+            Tape x = battle(withRhymes(), 1, 1);
+            Ring.bar(x, 0);
+            x.choke();
+            x.decide(0);
+            x.challenge(0, 1, 0);
+            x.begin(1, 3);
+            for (int end : ends[i]) {
+                Ring.bar(x, end);
+            }
+            String of = " of row " + i;
+            Check.due("37 rhymes" + of, marks[i][0], () -> x.marks(0, 0, 0, 0));
+            Check.due("37 landings" + of, marks[i][1], () -> x.marks(0, 0, 1, 0));
+            Check.due("37 chains" + of, marks[i][2], () -> x.marks(0, 0, 3, 0));
+        }
+    }
+
+    /** As many turns and bars as there can be, of two words that rhyme perfectly. */
+    private static void marksOfAllTurns() {
+        Tape x = battle(withRhymes(), 3, 4);
+        x.addJudge(1000, 1);
+        for (int turn = 0; turn < 6; turn++) {
+            int round = turn / 2;
+            int side = turn % 2;
+            for (int bar = 0; bar < 4; bar++) {
+                Ring.bar(x, bar % 2);
+            }
+            String of = " of turn " + turn;
+            int answers = turn == 0 ? 0 : 4;
+            Check.due("37 rhymes" + of, 3 * 3, () -> x.marks(round, side, 0, 0));
+            Check.due("37 landings" + of, 4, () -> x.marks(round, side, 1, 0));
+            Check.due("37 answers" + of, answers, () -> x.marks(round, side, 2, 0));
+            Check.due("37 chains" + of, 1, () -> x.marks(round, side, 3, 0));
+            Check.due("38 card" + of, side == 0 ? 10 : 1, () -> x.card(0, round, 0));
+        }
+    }
+
     private static void marksOfTurns() {
-        CypherRing x = Ring.withWords(1);
+        Tape x = Ring.withWords(1);
         Ring.performers(x, 0, 0);
         Check.dueThrow(x, "37 no battle", NONE, () -> x.marks(0, 0, 0, 0));
         x.challenge(0, 1, 0);
@@ -248,24 +264,36 @@ public final class CardsTest {
         Check.dueThrow(x, "37 the new one has fewer rounds", NONE, () -> x.marks(1, 1, 1, 0));
     }
 
+    /** The numbers that no battle of as many rounds has; with no battle there are none. */
+    private static void marksOutOfRange(Tape x, int rounds, String when) {
+        String what = "37 " + when;
+        for (int round : new int[] {0, rounds, Integer.MAX_VALUE}) {
+            String of = what + ", round " + round;
+            Check.dueThrowBeyond(x, of + ", side", RANGE, 0, 1, n -> x.marks(round, n, 0, 0));
+            Check.dueThrowBeyond(x, of + ", what", RANGE, 0, 3, n -> x.marks(round, 0, n, 0));
+            Check.dueThrowBeyond(x, of + ", region", RANGE, 0, 3, n -> x.marks(round, 0, 0, n));
+        }
+        for (int round : new int[] {-1, Integer.MIN_VALUE}) {
+            Check.dueThrow(x, what + ", round " + round, RANGE, () -> x.marks(round, 0, 0, 0));
+        }
+        for (int round : new int[] {rounds, rounds + 1, 3, Integer.MAX_VALUE}) {
+            Check.dueThrow(x, what + ", round " + round, NONE, () -> x.marks(round, 0, 0, 0));
+            Check.dueThrow(x, what + ", round " + round + ", highest", NONE, () -> x.marks(round, 1, 3, 3));
+        }
+    }
+
     private static void marksThrows() {
-        CypherRing x = battle(Ring.withWords(1), 2, 1);
-        Check.dueThrow(x, "37 round -1", RANGE, () -> x.marks(-1, 0, 0, 0));
-        Check.dueThrow(x, "37 side -1", RANGE, () -> x.marks(0, -1, 0, 0));
-        Check.dueThrow(x, "37 side 2", RANGE, () -> x.marks(0, 2, 0, 0));
-        Check.dueThrow(x, "37 what -1", RANGE, () -> x.marks(0, 0, -1, 0));
-        Check.dueThrow(x, "37 what 4", RANGE, () -> x.marks(0, 0, 4, 0));
-        Check.dueThrow(x, "37 region -1", RANGE, () -> x.marks(0, 0, 0, -1));
-        Check.dueThrow(x, "37 region 4", RANGE, () -> x.marks(0, 0, 0, 4));
-        Check.dueThrow(x, "37 round 2", NONE, () -> x.marks(2, 0, 0, 0));
-        Check.dueThrow(x, "37 greatest round", NONE, () -> x.marks(Integer.MAX_VALUE, 1, 3, 3));
-        Check.dueThrow(x, "37 range ahead of rounds", RANGE, () -> x.marks(2, 2, 0, 0));
-        CypherRing y = new CypherRing();
-        Check.dueThrow(y, "37 range ahead of no battle", RANGE, () -> y.marks(0, 0, 0, 4));
+        marksOutOfRange(new Tape(), 0, "a new object");
+        for (int rounds = 1; rounds <= 3; rounds++) {
+            Tape x = battle(Ring.withWords(1), rounds, 1);
+            int last = rounds - 1;
+            marksOutOfRange(x, rounds, rounds + " rounds");
+            Check.due("37 the last of " + rounds + " rounds", 0, () -> x.marks(last, 1, 3, 3));
+        }
     }
 
     private static void card() {
-        CypherRing x = battle(withRhymes(), 2, 2);
+        Tape x = battle(withRhymes(), 2, 2);
         x.addJudge(1000, 0);
         x.addJudge(200, 0);
         x.addJudge(30, 0);
@@ -296,26 +324,62 @@ public final class CardsTest {
         Check.due("38 by the region", 15 - 10 - 12 - 7 + 8 - 8 - 9, () -> x.card(4, 0, 3));
     }
 
+    private static void cardOutOfRange(Tape x, int judges, int rounds, String when) {
+        String what = "38 " + when;
+        for (int round : new int[] {-1, 0, rounds}) {
+            Check.dueThrowBeyond(x, what + ", judge", INDEX, 0, judges - 1, n -> x.card(n, round, 0));
+            Check.dueThrowBeyond(x, what + ", judge", INDEX, 0, judges - 1, n -> x.card(n, round, 4));
+        }
+        if (judges == 0) {
+            return;
+        }
+        for (int round : new int[] {0, rounds}) {
+            Check.dueThrowBeyond(x, what + ", round " + round + ", region", RANGE, 0, 3, n -> x.card(0, round, n));
+        }
+        for (int round : new int[] {-1, Integer.MIN_VALUE}) {
+            Check.dueThrow(x, what + ", round " + round, RANGE, () -> x.card(0, round, 0));
+        }
+        for (int round : new int[] {rounds, 3, Integer.MAX_VALUE}) {
+            Check.dueThrow(x, what + ", round " + round, NONE, () -> x.card(judges - 1, round, 3));
+        }
+    }
+
     private static void cardThrows() {
-        CypherRing x = new CypherRing();
-        Check.dueThrow(x, "38 no judge", INDEX, () -> x.card(0, 0, 0));
+        Tape x = new Tape();
+        cardOutOfRange(x, 0, 0, "no judge and no battle");
         x.addJudge(1111, 0);
-        Check.dueThrow(x, "38 no battle", NONE, () -> x.card(0, 0, 0));
+        cardOutOfRange(x, 1, 0, "no battle");
         Ring.performers(x, 0, 0);
         x.challenge(0, 1, 0);
+        cardOutOfRange(x, 1, 0, "no battle yet");
         x.begin(2, 1);
-        Check.dueThrow(x, "38 judge 1", INDEX, () -> x.card(1, 0, 0));
-        Check.dueThrow(x, "38 judge -1", INDEX, () -> x.card(-1, 0, 0));
-        Check.dueThrow(x, "38 judge ahead of range", INDEX, () -> x.card(1, -1, 4));
-        Check.dueThrow(x, "38 round -1", RANGE, () -> x.card(0, -1, 0));
-        Check.dueThrow(x, "38 region 4", RANGE, () -> x.card(0, 0, 4));
-        Check.dueThrow(x, "38 region -1", RANGE, () -> x.card(0, 0, -1));
-        Check.dueThrow(x, "38 round 2", NONE, () -> x.card(0, 2, 0));
-        Check.dueThrow(x, "38 range ahead of rounds", RANGE, () -> x.card(0, 2, 4));
+        cardOutOfRange(x, 1, 2, "two rounds");
+        Tape y = Ring.withPerformers(0, 0);
+        y.challenge(0, 1, 0);
+        y.begin(3, 1);
+        cardOutOfRange(y, 0, 3, "no judge");
+        for (int judge = 0; judge < 5; judge++) {
+            y.addJudge(0, judge);
+        }
+        cardOutOfRange(y, 5, 3, "five judges");
+        Check.due("38 the last judge, round and region", 4, () -> y.card(4, 2, 3));
+    }
+
+    /** The least and the greatest that a card can be by the leaning alone. */
+    private static void cardOfTheLeaning() {
+        Tape x = battle(Ring.withWords(1), 1, 1);
+        x.addJudge(9999, -20);
+        x.addJudge(9999, 20);
+        Check.due("38 the least leaning", -20, () -> x.card(0, 0, 0));
+        Check.due("38 the greatest leaning", 20, () -> x.card(1, 0, 0));
+        one(x, 0, 0);
+        Check.due("38 the greatest weight of one landing", 9 - 20, () -> x.card(0, 0, 0));
+        one(x, 0, 0);
+        Check.due("38 less one landing and one answer", 20 - 9, () -> x.card(1, 0, 0));
     }
 
     private static void isForMoreRounds() {
-        CypherRing x = rounds(1, 0, 1, 0, 0, 4);
+        Tape x = Ring.rounds(1, 0, 1, 0, 0, 4);
         x.addJudge(100, 0);
         x.addJudge(100, -1);
         x.addJudge(100, -2);
@@ -329,13 +393,13 @@ public final class CardsTest {
     }
 
     private static void isForTheGreaterSum() {
-        CypherRing x = rounds(1, 0, 0, 3, 2, 2);
+        Tape x = Ring.rounds(1, 0, 0, 3, 2, 2);
         x.addJudge(100, 0);
         Check.due("39 as many rounds, the second side's sum", 's', () -> x.isFor(0, 0));
-        CypherRing y = rounds(3, 0, 0, 1);
+        Tape y = Ring.rounds(3, 0, 0, 1);
         y.addJudge(100, 0);
         Check.due("39 as many rounds, the first side's sum", 'f', () -> y.isFor(0, 0));
-        CypherRing z = rounds(3, 0, 0, 3);
+        Tape z = Ring.rounds(3, 0, 0, 3);
         z.addJudge(100, 0);
         z.addJudge(0, 0);
         z.addJudge(100, 1);
@@ -344,32 +408,80 @@ public final class CardsTest {
         Check.due("39 the first side by the leaning", 'f', () -> z.isFor(2, 0));
     }
 
+    /** Cards and sums of cards next to 0. */
+    private static void isForByOne() {
+        Tape x = Ring.rounds(0, 0, 0, 0);
+        x.addJudge(0, 1);
+        x.addJudge(0, -1);
+        x.addJudge(0, 0);
+        Check.due("39 cards of 1", 'f', () -> x.isFor(0, 0));
+        Check.due("39 cards of -1", 's', () -> x.isFor(1, 0));
+        Check.due("39 cards of 0", '-', () -> x.isFor(2, 0));
+        isForBySums(Ring.rounds(2, 0, 0, 1), 'f', "1");
+        isForBySums(Ring.rounds(1, 0, 0, 2), 's', "-1");
+        isForBySums(Ring.rounds(1, 0, 0, 1), '-', "0");
+        isForBySums(Ring.rounds(0, 0, 0, 0, 1, 0), 'f', "1 in the last round");
+        isForBySums(Ring.rounds(0, 0, 0, 0, 0, 1), 's', "-1 in the last round");
+        isForBySums(Ring.rounds(0, 0, 1, 0, 0, 1), '-', "0, the first round being nobody's");
+    }
+
+    private static void isForBySums(Tape x, char want, String sum) {
+        x.addJudge(100, 0);
+        Check.due("39 a sum of " + sum, want, () -> x.isFor(0, 0));
+    }
+
+    private static void isForByTheRegion() {
+        Tape x = battle(withRhymes(), 1, 2);
+        x.addJudge(1000, 0);
+        Ring.bar(x, 0);
+        Ring.bar(x, 4);
+        Check.due("39 nobody in the first region", '-', () -> x.isFor(0, 0));
+        x.setAccent(3, 7, 0);
+        Check.due("39 the first side in the last region", 'f', () -> x.isFor(0, 3));
+        Check.due("39 nobody in the one ahead of it", '-', () -> x.isFor(0, 2));
+        Check.due("40 the crowd in the last region", 'f', () -> x.crowd(3));
+        x.choke();
+        Check.due("41 by the last region", 1, () -> x.decide(3));
+    }
+
     private static void isForThrows() {
-        CypherRing x = new CypherRing();
-        Check.dueThrow(x, "39 no judge", INDEX, () -> x.isFor(0, 4));
+        Tape x = new Tape();
+        isForOutOfRange(x, 0, "no judge and no battle");
         x.addJudge(1111, 1);
         Check.dueThrow(x, "39 no battle", NONE, () -> x.isFor(0, 0));
-        Check.dueThrow(x, "39 region 4", RANGE, () -> x.isFor(0, 4));
-        Check.dueThrow(x, "39 region -1", RANGE, () -> x.isFor(0, -1));
-        Check.dueThrow(x, "39 judge -1", INDEX, () -> x.isFor(-1, 0));
-        Check.dueThrow(x, "39 judge 1", INDEX, () -> x.isFor(1, 0));
+        isForOutOfRange(x, 1, "no battle");
         Ring.performers(x, 0, 0);
         x.challenge(0, 1, 0);
-        Check.dueThrow(x, "39 no battle yet", NONE, () -> x.isFor(0, 0));
+        Check.dueThrow(x, "39 no battle yet", NONE, () -> x.isFor(0, 3));
         x.begin(1, 1);
         Check.due("39 in a battle", 'f', () -> x.isFor(0, 0));
+        isForOutOfRange(x, 1, "in a battle");
+        for (int judge = 1; judge < 5; judge++) {
+            x.addJudge(0, -judge);
+        }
+        Check.due("39 the last judge, the last region", 's', () -> x.isFor(4, 3));
+        isForOutOfRange(x, 5, "five judges");
+    }
+
+    private static void isForOutOfRange(Tape x, int judges, String when) {
+        String what = "39 " + when;
+        Check.dueThrowBeyond(x, what + ", judge", INDEX, 0, judges - 1, n -> x.isFor(n, 0));
+        Check.dueThrowBeyond(x, what + ", region 4, judge", INDEX, 0, judges - 1, n -> x.isFor(n, 4));
+        if (judges > 0) {
+            Check.dueThrowBeyond(x, what + ", region", RANGE, 0, 3, n -> x.isFor(judges - 1, n));
+        }
     }
 
     private static void crowd() {
-        CypherRing x = rounds(1, 0, 0, 0, 0, 4);
+        Tape x = Ring.rounds(1, 0, 0, 0, 0, 4);
         x.addJudge(1111, 0);
         Check.due("40 the first two rounds alone", 'f', () -> x.crowd(0));
         Check.due("40 a judge by all rounds", 's', () -> x.isFor(0, 0));
-        Check.due("40 one round", 's', () -> rounds(1, 2).crowd(0));
-        Check.due("40 the second round", 's', () -> rounds(0, 0, 0, 1, 4, 0).crowd(0));
-        Check.due("40 the sum of two rounds", 'f', () -> rounds(3, 0, 0, 1, 0, 4).crowd(0));
-        Check.due("40 nobody", '-', () -> rounds(2, 0, 0, 1, 4, 0).crowd(0));
-        CypherRing y = battle(withRhymes(), 1, 2);
+        Check.due("40 one round", 's', () -> Ring.rounds(1, 2).crowd(0));
+        Check.due("40 the second round", 's', () -> Ring.rounds(0, 0, 0, 1, 4, 0).crowd(0));
+        Check.due("40 the sum of two rounds", 'f', () -> Ring.rounds(3, 0, 0, 1, 0, 4).crowd(0));
+        Check.due("40 nobody", '-', () -> Ring.rounds(2, 0, 0, 1, 4, 0).crowd(0));
+        Tape y = battle(withRhymes(), 1, 2);
         Ring.bar(y, 3);
         Ring.bar(y, 4);
         Ring.bar(y, 4, 4);
@@ -379,13 +491,13 @@ public final class CardsTest {
     }
 
     private static void crowdWeighsAllAlike() {
-        CypherRing rhymes = battle(withRhymes(), 1, 2);
+        Tape rhymes = battle(withRhymes(), 1, 2);
         one(rhymes, 2, 50);
         one(rhymes, 3, 50);
         Check.due("40 one rhyme", 'f', () -> rhymes.crowd(0));
         one(rhymes, 4, 0);
         Check.due("40 one rhyme against one landing", '-', () -> rhymes.crowd(0));
-        CypherRing chains = new CypherRing();
+        Tape chains = new Tape();
         Ring.word(chains, 1071, 1000);
         Ring.word(chains, 1771, 1000);
         Ring.word(chains, 1111);
@@ -395,217 +507,31 @@ public final class CardsTest {
         Check.due("40 one chain", 'f', () -> chains.crowd(0));
         one(chains, 2, 0);
         Check.due("40 one chain against one landing", '-', () -> chains.crowd(0));
-        CypherRing answers = battle(Ring.withWords(1), 1, 1);
+        Tape answers = battle(Ring.withWords(1), 1, 1);
         one(answers, 0, 0);
         Check.due("40 one landing", 'f', () -> answers.crowd(0));
         one(answers, 0, 50);
         Check.due("40 one answer against one landing", '-', () -> answers.crowd(0));
     }
 
+    private static void crowdByOne() {
+        Check.due("40 a sum of 3 less 2", 'f', () -> Ring.rounds(3, 0, 0, 1).crowd(0));
+        Check.due("40 a sum of 2 less 2", '-', () -> Ring.rounds(2, 0, 0, 1).crowd(0));
+        Check.due("40 a sum of 1 less 2", 's', () -> Ring.rounds(1, 0, 0, 1).crowd(0));
+        Check.due("40 the last of two rounds", 's', () -> Ring.rounds(0, 0, 0, 1).crowd(0));
+        Check.due("40 the third of three rounds", '-', () -> Ring.rounds(0, 0, 0, 0, 1, 0).crowd(0));
+    }
+
     private static void crowdThrows() {
-        CypherRing x = new CypherRing();
+        Tape x = new Tape();
         Check.dueThrow(x, "40 no battle", NONE, () -> x.crowd(0));
-        Check.dueThrow(x, "40 region 4", RANGE, () -> x.crowd(4));
-        Check.dueThrow(x, "40 region -1", RANGE, () -> x.crowd(-1));
+        Check.dueThrowBeyond(x, "40 no battle, region", RANGE, 0, 3, x::crowd);
         Ring.performers(x, 0, 0);
         x.challenge(0, 1, 0);
-        Check.dueThrow(x, "40 no battle yet", NONE, () -> x.crowd(0));
+        Check.dueThrow(x, "40 no battle yet", NONE, () -> x.crowd(3));
         x.begin(1, 1);
         Check.due("40 in a battle", '-', () -> x.crowd(0));
-    }
-
-    private static void decide() {
-        CypherRing x = new CypherRing();
-        Ring.word(x, 1111);
-        Ring.performers(x, 0, 0, 0);
-        x.challenge(2, 1, 501);
-        x.begin(1, 1);
-        one(x, 0, 50);
-        one(x, 0, 100);
-        Check.due("41 the second side wins", 2, () -> x.decide(0));
-        Check.due("41 the winner's rating", 1020, () -> x.rating(2));
-        Check.due("41 the loser's rating", 980, () -> x.rating(1));
-        Check.due("41 the rating of another", 1000, () -> x.rating(0));
-        Check.due("41 the purse", 501, () -> x.money(2));
-        Check.due("41 no purse", 0, () -> x.money(1));
-        Check.due("41 it is not on", false, x::isOn);
-        Check.due("41 the crowd still tells", 's', () -> x.crowd(0));
-    }
-
-    private static void decideThrows() {
-        CypherRing x = new CypherRing();
-        Check.dueThrow(x, "41 no battle", STATE, () -> x.decide(0));
-        Check.dueThrow(x, "41 region ahead of that", RANGE, () -> x.decide(4));
-        Ring.performers(x, 0, 0);
-        x.challenge(0, 1, 0);
-        Check.dueThrow(x, "41 a challenge waits", STATE, () -> x.decide(0));
-        x.begin(1, 1);
-        Check.dueThrow(x, "41 a turn", STATE, () -> x.decide(0));
-        x.choke();
-        Check.dueThrow(x, "41 the last turn", STATE, () -> x.decide(0));
-        x.choke();
-        Check.dueThrow(x, "41 region 4", RANGE, () -> x.decide(4));
-        Check.dueThrow(x, "41 region -1", RANGE, () -> x.decide(-1));
-        Check.due("41 it waits", -1, () -> x.decide(3));
-        Check.dueThrow(x, "41 decided", STATE, () -> x.decide(0));
-    }
-
-    private static void decideByMore() {
-        CypherRing x = rounds(1, 0);
-        Check.due("41 the crowd alone", 1, () -> x.decide(0));
-        CypherRing y = rounds(1, 0);
-        y.addJudge(0, -1);
-        y.addJudge(0, -1);
-        Check.due("41 two judges against the crowd", 0, () -> y.decide(0));
-        CypherRing z = rounds(1, 0);
-        z.addJudge(0, -1);
-        z.addJudge(0, 0);
-        Check.due("41 as many", -1, () -> z.decide(0));
-        CypherRing w = rounds(0, 0);
-        w.addJudge(0, 0);
-        w.addJudge(0, -20);
-        Check.due("41 one, the others for nobody", 0, () -> w.decide(0));
-        Check.due("41 the crowd by two rounds of three", 1, () -> rounds(1, 0, 0, 0, 0, 4).decide(0));
-        CypherRing u = rounds(1, 0, 0, 0, 0, 4);
-        u.addJudge(1111, 0);
-        Check.due("41 a judge by all three", -1, () -> u.decide(0));
-        CypherRing v = battle(withRhymes(), 1, 2);
-        Ring.bar(v, 3);
-        Ring.bar(v, 4);
-        Ring.bar(v, 4, 4);
-        v.choke();
-        v.setAccent(1, 7, 3);
-        Check.due("41 by the region", 1, () -> v.decide(1));
-    }
-
-    private static void decideDrawn() {
-        CypherRing x = Ring.withPerformers(0, 1);
-        for (int i = 0; i < 3; i++) {
-            x.challenge(0, 1, 0);
-            x.refuse();
-        }
-        x.challenge(0, 1, 101);
-        x.begin(1, 1);
-        Ring.chokeAll(x);
-        Check.due("41 drawn", -1, () -> x.decide(0));
-        Check.due("41 half of the purse, cut", 50, () -> x.money(0));
-        Check.due("41 half of the purse for the other", 50, () -> x.money(1));
-        Check.due("41 ratings stay", 1000, () -> x.rating(0));
-        Check.due("41 ratings of both", 1000, () -> x.rating(1));
-        Check.due("41 tiers stay", 2, () -> x.tier(1));
-        Check.due("41 tiers of both", 1, () -> x.tier(0));
-        x.challenge(1, 0, 1);
-        x.begin(1, 1);
-        Ring.chokeAll(x);
-        x.decide(0);
-        Check.due("41 half of 1", 50, () -> x.money(0));
-    }
-
-    /** Words 0 to 23, and performers; each battle is won by a bar that no earlier one had. */
-    private static final class Season {
-        private final CypherRing x = Ring.withWords(24);
-        private final int[] styles;
-        private final int[] ratings;
-        private int battles;
-
-        Season(int... styles) {
-            this.styles = styles;
-            ratings = new int[styles.length];
-            for (int i = 0; i < styles.length; i++) {
-                x.addPerformer(styles[i]);
-                ratings[i] = 1000;
-            }
-        }
-
-        void win(int winner, int loser) {
-            x.challenge(winner, loser, 10);
-            int first = x.begin(1, 1);
-            if (first != winner) {
-                x.choke();
-            }
-            x.say(battles / 24, 0);
-            x.say(battles % 24, 100);
-            x.closeBar();
-            if (first == winner) {
-                x.choke();
-            }
-            battles++;
-            Check.due("41 winner of battle " + battles, winner, () -> x.decide(0));
-        }
-
-        /** Such a battle, and how it changes the ratings. */
-        int change(int winner, int loser) {
-            win(winner, loser);
-            int change = x.rating(winner) - ratings[winner];
-            Check.due("41 loses as much in battle " + battles, ratings[loser] - change, () -> x.rating(loser));
-            ratings[winner] += change;
-            ratings[loser] -= change;
-            return change;
-        }
-    }
-
-    private static void decideStyles() {
-        for (int winner = 0; winner < 3; winner++) {
-            for (int loser = 0; loser < 3; loser++) {
-                boolean isBehind = winner == 0 && loser == 1 || winner == 1 && loser == 2 || winner == 2 && loser == 0;
-                Season season = new Season(winner, loser);
-                Check.due("41 style " + winner + " over " + loser, isBehind ? 25 : 20, () -> season.change(0, 1));
-            }
-        }
-    }
-
-    private static void decideRatings() {
-        Season season = new Season(0, 0, 1);
-        int[] less = {20, 18, 17, 15, 13, 12};
-        for (int want : less) {
-            Check.due("41 over a weaker one", want, () -> season.change(0, 1));
-        }
-        Check.due("13 of the winner", 1095, () -> season.x.rating(0));
-        Check.due("13 of the loser", 905, () -> season.x.rating(1));
-        Check.due("41 over a stronger one, cut", 20 + 9, () -> season.change(1, 0));
-        Check.due("41 a difference of 132", 20 + 6, () -> season.change(1, 0));
-        Check.due("41 a difference of 80, and the style", 20 - 2 + 5, () -> season.change(0, 2));
-        Check.due("48 and 49 of all", 1000.0, season.x::meanRating);
-    }
-
-    private static void decideRatingsAtTheLimits() {
-        Season season = new Season(0, 1, 1, 1, 1, 1, 1, 1, 1, 2);
-        for (int i = 0; i < 40; i++) {
-            int middle = 1 + i / 2 % 8;
-            int winner = i % 2 == 0 ? 0 : middle;
-            int loser = i % 2 == 0 ? middle : 9;
-            int apart = season.ratings[loser] - season.ratings[winner];
-            int want = 25 + (int) (apart / 20.0);
-            Check.due("41 battle " + i, want, () -> season.change(winner, loser));
-        }
-        int apart = season.ratings[0] - season.ratings[9];
-        Check.due("41 far apart", true, () -> apart > 520);
-        Check.due("41 by 50 at most", 50, () -> season.change(9, 0));
-        Season other = new Season(0, 0);
-        for (int i = 0; i < 45; i++) {
-            int d = other.ratings[0] - other.ratings[1];
-            int want = Math.max(1, 20 - d / 20);
-            Check.due("41 by 1 at least, battle " + i, want, () -> other.change(0, 1));
-        }
-        Check.due("41 far apart", true, () -> other.ratings[0] - other.ratings[1] > 400);
-    }
-
-    private static void decideTiers() {
-        Season season = new Season(0, 0);
-        CypherRing x = season.x;
-        for (int i = 0; i < 3; i++) {
-            x.challenge(0, 1, 0);
-            x.refuse();
-        }
-        season.win(0, 1);
-        Check.due("41 the winner's tier stays", 1, () -> x.tier(0));
-        Check.due("41 the loser's tier was lower", 2, () -> x.tier(1));
-        season.win(1, 0);
-        Check.due("41 the winner's tier becomes the loser's", 1, () -> x.tier(1));
-        Check.due("41 the loser's tier becomes the winner's", 2, () -> x.tier(0));
-        Season equal = new Season(0, 0);
-        equal.win(1, 0);
-        Check.due("41 like tiers stay", 1, () -> equal.x.tier(0));
-        Check.due("41 like tiers stay, of both", 1, () -> equal.x.tier(1));
+        Check.due("40 in a battle, the last region", '-', () -> x.crowd(3));
+        Check.dueThrowBeyond(x, "40 in a battle, region", RANGE, 0, 3, x::crowd);
     }
 }

@@ -5,6 +5,11 @@ final class Check {
         Object answer();
     }
 
+    /** Such a call with a number that is put into it. */
+    interface CallWith {
+        Object answer(int number);
+    }
+
     private static int wrong = 0;
 
     private Check() {
@@ -19,16 +24,19 @@ final class Check {
         }
     }
 
-    /** A call throws just this exception. */
-    static void dueThrow(String what, Class<?> want, Call call) {
+    /** A call of the ring, the only one that is made here, throws just this exception, and changes nothing. */
+    static void dueThrow(Tape x, String what, Class<?> want, Call call) {
+        int calls = x.length();
         due(what, "throws." + want.getName(), call);
+        due(what + " is one call", calls + 1, x::length);
+        due(what + " changes", "nothing", () -> Probe.changeByTheLast(x));
     }
 
-    /** A call throws just this exception, and the ring tells the same as ahead of it. */
-    static void dueThrow(CypherRing x, String what, Class<?> want, Call call) {
-        String before = Ring.told(x);
-        dueThrow(what, want, call);
-        due(what + " changed nothing", true, () -> Ring.told(x).equals(before));
+    /** A call throws so for the numbers next to a range, and for those that are farthest out of it. */
+    static void dueThrowBeyond(Tape x, String what, Class<?> want, int low, int high, CallWith call) {
+        for (int number : new int[] {Integer.MIN_VALUE, low - 1, high + 1, Integer.MAX_VALUE}) {
+            dueThrow(x, what + " " + number, want, () -> call.answer(number));
+        }
     }
 
     static Object result(Call call) {

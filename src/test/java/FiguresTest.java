@@ -1,3 +1,5 @@
+import java.math.BigInteger;
+
 /** Promises 42 to 50: samples, and figures over the ring. */
 public final class FiguresTest {
     private static final Class<?> RANGE = IllegalArgumentException.class;
@@ -10,51 +12,60 @@ public final class FiguresTest {
         addSample();
         needsClearing();
         clear();
+        clearOfTheFirstAndTheLast();
         clearThrows();
         paid();
         elapsed();
         checksum();
         checksumOfBars();
+        checksumGoesRound();
         landedShare();
+        landedShareAtTheEnds();
+        landedShareOfLostWords();
         meanRating();
+        meanRatingOfAll();
         isSound();
         Check.end();
     }
 
     private static void addSample() {
-        CypherRing x = new CypherRing();
-        Check.dueThrow(x, "42 source -1", RANGE, () -> x.addSample(-1, 1, 0));
-        Check.dueThrow(x, "42 source 10", RANGE, () -> x.addSample(10, 1, 0));
-        Check.dueThrow(x, "42 tenths 0", RANGE, () -> x.addSample(0, 0, 0));
-        Check.dueThrow(x, "42 tenths 100", RANGE, () -> x.addSample(0, 100, 0));
-        Check.dueThrow(x, "42 likeness -1", RANGE, () -> x.addSample(0, 1, -1));
-        Check.dueThrow(x, "42 likeness 101", RANGE, () -> x.addSample(0, 1, 101));
-        for (int i = 0; i < 10; i++) {
+        Tape x = new Tape();
+        addSampleOutOfRange(x, "the first one");
+        Check.due("42 lowest numbers", 0, () -> x.addSample(0, 1, 0));
+        Check.due("42 highest numbers", 1, () -> x.addSample(9, 99, 100));
+        for (int i = 2; i < 10; i++) {
             int source = i;
-            Check.due("42 next", i, () -> x.addSample(source, 1 + 98 * (source % 2), 100 * (source % 2)));
+            Check.due("42 next", i, () -> x.addSample(source, 50, 50));
         }
         Check.dueThrow(x, "42 the 11th", STATE, () -> x.addSample(0, 1, 0));
-        Check.dueThrow(x, "42 range ahead of too many", RANGE, () -> x.addSample(0, 0, 0));
+        addSampleOutOfRange(x, "the 11th");
     }
 
+    private static void addSampleOutOfRange(Tape x, String when) {
+        Check.dueThrowBeyond(x, "42 " + when + ", source", RANGE, 0, 9, n -> x.addSample(n, 1, 0));
+        Check.dueThrowBeyond(x, "42 " + when + ", tenths", RANGE, 1, 99, n -> x.addSample(0, n, 0));
+        Check.dueThrowBeyond(x, "42 " + when + ", likeness", RANGE, 0, 100, n -> x.addSample(0, 1, n));
+    }
+
+    /** No two numbers in range give 501, 502 or 503: 504 is the next one above 500. */
     private static void needsClearing() {
-        CypherRing x = new CypherRing();
-        x.addSample(0, 5, 100);
-        x.addSample(0, 10, 50);
-        Check.dueThrow("42 a wrong one", RANGE, () -> x.addSample(0, 3, 167));
-        Check.dueThrow("43 a wrong one adds none", INDEX, () -> x.needsClearing(2));
-        x.addSample(0, 7, 72);
-        x.addSample(0, 99, 0);
-        Check.due("43 500", false, () -> x.needsClearing(0));
-        Check.due("43 500 again", false, () -> x.needsClearing(1));
-        Check.due("43 504", true, () -> x.needsClearing(2));
-        Check.due("43 0", false, () -> x.needsClearing(3));
-        Check.dueThrow(x, "43 sample 4", INDEX, () -> x.needsClearing(4));
-        Check.dueThrow(x, "43 sample -1", INDEX, () -> x.needsClearing(-1));
+        int[][] samples = {{5, 100}, {10, 50}, {99, 5}, {99, 0}, {1, 100}, {7, 72}, {8, 63}, {99, 6}, {99, 100}};
+        Tape x = new Tape();
+        Check.dueThrowBeyond(x, "43 none, sample", INDEX, 0, -1, x::needsClearing);
+        for (int i = 0; i < samples.length; i++) {
+            int sample = i;
+            int product = samples[i][0] * samples[i][1];
+            x.addSample(0, samples[i][0], samples[i][1]);
+            Check.due("43 " + product, i >= 5, () -> x.needsClearing(sample));
+        }
+        Check.dueThrowBeyond(x, "43 nine, sample", INDEX, 0, 8, x::needsClearing);
+        x.addSample(0, 6, 84);
+        Check.due("43 the last one", true, () -> x.needsClearing(9));
+        Check.dueThrowBeyond(x, "43 ten, sample", INDEX, 0, 9, x::needsClearing);
     }
 
     private static void clear() {
-        CypherRing x = Ring.withPerformers(0, 0);
+        Tape x = Ring.withPerformers(0, 0);
         x.addSample(9, 99, 100);
         x.addSample(9, 7, 73);
         x.addSample(9, 99, 100);
@@ -70,36 +81,63 @@ public final class FiguresTest {
         Check.due("13 ratings stay", 1000, () -> x.rating(1));
     }
 
+    private static void clearOfTheFirstAndTheLast() {
+        Tape x = Ring.withPerformers(0, 0, 0, 0, 0, 0, 0, 0, 0, 0);
+        for (int sample = 0; sample < 10; sample++) {
+            x.addSample(9 - sample, 7, 72);
+        }
+        Check.due("44 504 divided by 10, cut", 50, () -> x.clear(9, 0));
+        Check.due("45 the first source", 50, () -> x.paid(0));
+        Check.due("15 the first performer", -50, () -> x.money(0));
+        Check.due("44 the first sample", 50, () -> x.clear(0, 9));
+        Check.due("45 the last source", 50, () -> x.paid(9));
+        Check.due("15 the last performer", -50, () -> x.money(9));
+        Check.due("43 the second sample", true, () -> x.needsClearing(1));
+        Check.due("43 the last but one", true, () -> x.needsClearing(8));
+    }
+
+    private static void clearOutOfRange(Tape x, int samples, int performers, String when) {
+        for (int other : new int[] {0, -1, 10}) {
+            String what = "44 " + when + ", other number " + other;
+            Check.dueThrowBeyond(x, what + ", sample", INDEX, 0, samples - 1, n -> x.clear(n, other));
+            Check.dueThrowBeyond(x, what + ", performer", INDEX, 0, performers - 1, n -> x.clear(other, n));
+        }
+    }
+
     private static void clearThrows() {
-        CypherRing x = Ring.withPerformers(0);
-        Check.dueThrow(x, "44 no sample", INDEX, () -> x.clear(0, 0));
+        Tape x = new Tape();
+        clearOutOfRange(x, 0, 0, "nothing");
         x.addSample(3, 50, 10);
-        x.addSample(3, 50, 11);
-        Check.dueThrow(x, "44 sample -1", INDEX, () -> x.clear(-1, 0));
-        Check.dueThrow(x, "44 sample 2", INDEX, () -> x.clear(2, 0));
-        Check.dueThrow(x, "44 performer 1", INDEX, () -> x.clear(1, 1));
-        Check.dueThrow(x, "44 performer -1", INDEX, () -> x.clear(1, -1));
-        Check.dueThrow(x, "44 no performer ahead of no need", INDEX, () -> x.clear(0, 1));
+        clearOutOfRange(x, 1, 0, "no performer");
+        x.addPerformer(0);
+        clearOutOfRange(x, 1, 1, "one that needs none");
         Check.dueThrow(x, "44 needs none", NOT_NOW, () -> x.clear(0, 0));
+        x.addSample(3, 50, 11);
+        clearOutOfRange(x, 2, 1, "two samples");
         Check.due("44 550 divided by 10", 55, () -> x.clear(1, 0));
         Check.dueThrow(x, "44 needs none any longer", NOT_NOW, () -> x.clear(1, 0));
+        x.addPerformer(0);
+        Check.dueThrow(x, "44 needs none, for another one", NOT_NOW, () -> x.clear(1, 1));
+        clearOutOfRange(x, 2, 2, "one that was cleared");
         Check.due("45 paid once", 55, () -> x.paid(3));
+        Check.due("15 by one alone", -55, () -> x.money(0));
+        Tape y = Ring.withPerformers(0);
+        clearOutOfRange(y, 0, 1, "no sample");
     }
 
     private static void paid() {
-        CypherRing x = Ring.withPerformers(0);
+        Tape x = Ring.withPerformers(0);
         for (int i = 0; i < 10; i++) {
             int source = i;
             Check.due("45 at first", 0, () -> x.paid(source));
         }
         x.addSample(0, 99, 100);
         Check.due("45 not by adding", 0, () -> x.paid(0));
-        Check.dueThrow(x, "45 source -1", RANGE, () -> x.paid(-1));
-        Check.dueThrow(x, "45 source 10", RANGE, () -> x.paid(10));
+        Check.dueThrowBeyond(x, "45 source", RANGE, 0, 9, x::paid);
     }
 
     private static void elapsed() {
-        CypherRing x = Ring.withWords(1);
+        Tape x = Ring.withWords(1);
         Ring.performers(x, 0, 0);
         Check.due("46 at first", 0L, x::elapsed);
         x.challenge(0, 1, 0);
@@ -124,7 +162,7 @@ public final class FiguresTest {
     }
 
     private static void checksum() {
-        CypherRing x = new CypherRing();
+        Tape x = new Tape();
         Check.due("47 at first", 7L, x::checksum);
         x.addPerformer(2);
         long one = ((7L * 31 + 1000) * 31 + 1) * 31;
@@ -143,7 +181,7 @@ public final class FiguresTest {
     }
 
     private static void checksumOfBars() {
-        CypherRing x = Ring.inBattle(4, 1, 2);
+        Tape x = Ring.inBattle(4, 1, 2);
         long sum = 7;
         for (int i = 0; i < 2; i++) {
             sum = ((sum * 31 + 1000) * 31 + 1) * 31;
@@ -175,8 +213,58 @@ public final class FiguresTest {
         Check.due("47 bars are gone with a new battle", allGone, x::checksum);
     }
 
+    /** As many performers and bars as let the sum go round beyond the range of a long, many times. */
+    private static void checksumGoesRound() {
+        Tape x = Ring.withWords(3);
+        Ring.performers(x, 0, 1, 2, 0, 1, 2, 0, 1, 2, 0);
+        BigInteger sum = BigInteger.valueOf(7);
+        for (int performer = 0; performer < 10; performer++) {
+            sum = onwards(onwards(onwards(sum, 1000), 1), 0);
+        }
+        BigInteger ofPerformers = sum;
+        Check.due("47 ten performers", ofPerformers.longValue(), x::checksum);
+        x.challenge(0, 9, 0);
+        x.begin(3, 4);
+        for (int bar = 0; bar < 24; bar++) {
+            int word = bar % 3;
+            Ring.bar(x, word, 2);
+            sum = onwards(onwards(onwards(sum, 2), word), 2);
+        }
+        BigInteger ofAll = sum;
+        Check.due("47 and 24 bars", ofAll.longValue(), x::checksum);
+    }
+
+    private static BigInteger onwards(BigInteger sum, int value) {
+        return sum.multiply(BigInteger.valueOf(31)).add(BigInteger.valueOf(value));
+    }
+
+    private static void landedShareAtTheEnds() {
+        Tape x = Ring.inBattle(1, 1, 2);
+        Check.dueThrow(x, "48 no words", NO_SHARE, x::landedShare);
+        x.say(0, 50);
+        x.closeBar();
+        Check.due("48 none", 0.0f, x::landedShare);
+        for (int i = 0; i < 16; i++) {
+            x.say(0, 25 * i);
+        }
+        x.closeBar();
+        Check.due("48 4 of 17", 4.0f / 17.0f, x::landedShare);
+    }
+
+    private static void landedShareOfLostWords() {
+        Tape x = Ring.inBattle(1, 1, 1);
+        x.say(0, 0);
+        x.restart();
+        x.say(0, 0);
+        x.choke();
+        x.choke();
+        Check.dueThrow(x, "48 all words are lost", NO_SHARE, x::landedShare);
+        x.decide(0);
+        Check.dueThrow(x, "48 all words are lost, decided", NO_SHARE, x::landedShare);
+    }
+
     private static void landedShare() {
-        CypherRing x = Ring.withWords(1);
+        Tape x = Ring.withWords(1);
         Ring.performers(x, 0, 0);
         Check.dueThrow(x, "48 no battle", NO_SHARE, x::landedShare);
         x.challenge(0, 1, 0);
@@ -206,7 +294,7 @@ public final class FiguresTest {
     }
 
     private static void meanRating() {
-        CypherRing x = Ring.withWords(2);
+        Tape x = Ring.withWords(2);
         Check.dueThrow(x, "49 none", NO_SHARE, x::meanRating);
         x.addPerformer(0);
         Check.due("49 one", 1000.0, x::meanRating);
@@ -220,8 +308,20 @@ public final class FiguresTest {
         Check.due("49 behind a decision", 1000.0, x::meanRating);
     }
 
+    private static void meanRatingOfAll() {
+        Tape x = Ring.withPerformers(0, 1, 2, 0, 1, 2, 0, 1, 2, 0);
+        x.addJudge(0, 20);
+        Check.due("49 ten", 1000.0, x::meanRating);
+        x.challenge(0, 9, 0);
+        x.begin(1, 1);
+        Ring.chokeAll(x);
+        x.decide(0);
+        Check.due("13 one changed", 1020, () -> x.rating(9));
+        Check.due("49 ten behind a decision", 1000.0, x::meanRating);
+    }
+
     private static void isSound() {
-        CypherRing x = Ring.withWords(3);
+        Tape x = Ring.withWords(3);
         Check.due("50 without performers", true, x::isSound);
         Ring.performers(x, 0, 1, 2);
         Check.due("50 with performers", true, x::isSound);

@@ -8,11 +8,11 @@ public final class LimitsTest {
     }
 
     private static CypherRing withLongWords() {
-        CypherRing x = new CypherRing();
+        Tape x = new Tape();
         Ring.word(x, 1001, 1000, 1000, 1000);
         Ring.word(x, 2001);
         Ring.performers(x, 0, 0);
-        return x;
+        return x.played(x.length());
     }
 
     /** Fills all turns of a battle with bars of a word said as often as told, and decides it; tells the calls. */
@@ -39,7 +39,8 @@ public final class LimitsTest {
         }
         x.challenge(0, 1, 1);
         x.begin(1, 1);
-        Ring.bar(x, 0);
+        x.say(0, 0);
+        x.closeBar();
         Check.due("32 the first one of many bars", true, () -> x.wasHeard(0));
     }
 

@@ -11,8 +11,10 @@ public final class WordsTest {
     public static void main(String[] args) {
         aNewObject();
         addSyllable();
+        addSyllableWithoutStress();
         clearSyllables();
         addWord();
+        addWordStressedOnce();
         addWordAtTheLimit();
         syllables();
         setAccent();
@@ -21,11 +23,16 @@ public final class WordsTest {
         rhymePerfect();
         rhymeByVowelsOrSlantly();
         rhymeOfTailsAlone();
+        rhymeUnlikeByOne();
+        rhymeOfTheLongestTails();
         rhymeThrows();
         near();
+        nearAtMost();
         nearThrows();
         bestRhyme();
         bestRhymeBreaksTies();
+        bestRhymeByKindAheadOfNearness();
+        bestRhymeAtTheEndsOfTheWords();
         bestRhymeThrows();
         setBeat();
         setBeatThrows();
@@ -35,97 +42,135 @@ public final class WordsTest {
     }
 
     private static void aNewObject() {
-        CypherRing x = new CypherRing();
-        Check.dueThrow("1 new: no word", INDEX, () -> x.syllables(0));
-        Check.dueThrow("1 new: no performer", INDEX, () -> x.rating(0));
-        Check.dueThrow("1 new: no judge", INDEX, () -> x.card(0, 0, 0));
-        Check.dueThrow("1 new: no sample", INDEX, () -> x.needsClearing(0));
+        Tape x = new Tape();
+        Check.dueThrow(x, "1 new: no word", INDEX, () -> x.syllables(0));
+        Check.dueThrow(x, "1 new: no performer", INDEX, () -> x.rating(0));
+        Check.dueThrow(x, "1 new: no judge", INDEX, () -> x.card(0, 0, 0));
+        Check.dueThrow(x, "1 new: no sample", INDEX, () -> x.needsClearing(0));
         Check.due("1 new: draft is empty", 0, x::clearSyllables);
         Check.due("1 new: no battle", false, x::isOn);
         Check.due("1 new: no bars", 0, x::bars);
-        Check.dueThrow("1 new: nothing to read", NONE, x::read);
+        Check.dueThrow(x, "1 new: nothing to read", NONE, x::read);
         Ring.inBattle(3, 1, 1);
-        CypherRing y = new CypherRing();
-        Check.due("1 two rings share nothing", Ring.told(x), () -> Ring.told(y));
+        Tape y = new Tape();
+        Check.due("1 two rings share nothing", Probe.told(x, 0, 512), () -> Probe.told(y, 0, 512));
     }
 
     private static void addSyllable() {
-        CypherRing x = new CypherRing();
-        Check.due("2 first", 1, () -> x.addSyllable(0, 0, 0, false));
-        Check.due("2 highest numbers", 2, () -> x.addSyllable(9, 7, 9, true));
-        Check.dueThrow(x, "2 onset -1", RANGE, () -> x.addSyllable(-1, 0, 0, true));
-        Check.dueThrow(x, "2 onset 10", RANGE, () -> x.addSyllable(10, 0, 0, true));
-        Check.dueThrow(x, "2 vowel -1", RANGE, () -> x.addSyllable(0, -1, 0, true));
-        Check.dueThrow(x, "2 vowel 8", RANGE, () -> x.addSyllable(0, 8, 0, true));
-        Check.dueThrow(x, "2 coda -1", RANGE, () -> x.addSyllable(0, 0, -1, true));
-        Check.dueThrow(x, "2 coda 10", RANGE, () -> x.addSyllable(0, 0, 10, true));
-        Check.dueThrow(x, "2 least int", RANGE, () -> x.addSyllable(Integer.MIN_VALUE, 0, 0, true));
+        Tape x = new Tape();
+        addSyllableOutOfRange(x, "as the first one");
+        Check.due("2 first, lowest numbers", 1, () -> x.addSyllable(0, 0, 0, false));
+        Check.due("2 second, highest numbers", 2, () -> x.addSyllable(9, 7, 9, true));
+        addSyllableOutOfRange(x, "as the third one");
         Check.due("2 third", 3, () -> x.addSyllable(1, 1, 1, false));
         Check.due("2 fourth", 4, () -> x.addSyllable(1, 1, 1, false));
         Check.dueThrow(x, "2 fifth", STATE, () -> x.addSyllable(1, 1, 1, true));
-        Check.dueThrow(x, "2 range ahead of fifth", RANGE, () -> x.addSyllable(1, 8, 1, true));
+        addSyllableOutOfRange(x, "ahead of a fifth one");
         Check.due("2 word", 0, () -> x.addWord(0, 0));
         Check.due("2 has four", 4, () -> x.syllables(0));
         Check.due("2 first of the next word", 1, () -> x.addSyllable(0, 0, 0, true));
     }
 
+    private static void addSyllableOutOfRange(Tape x, String when) {
+        Check.dueThrowBeyond(x, "2 " + when + ", onset", RANGE, 0, 9, n -> x.addSyllable(n, 0, 0, true));
+        Check.dueThrowBeyond(x, "2 " + when + ", vowel", RANGE, 0, 7, n -> x.addSyllable(0, n, 0, true));
+        Check.dueThrowBeyond(x, "2 " + when + ", coda", RANGE, 0, 9, n -> x.addSyllable(0, 0, n, false));
+    }
+
+    private static void addSyllableWithoutStress() {
+        Tape x = new Tape();
+        for (int i = 1; i <= 4; i++) {
+            Check.due("2 unstressed", i, () -> x.addSyllable(0, 0, 0, false));
+        }
+        Check.dueThrow(x, "2 a fifth one, the first that is stressed", STATE, () -> x.addSyllable(0, 0, 0, true));
+        Check.dueThrow(x, "4 four, none stressed", NOT_NOW, () -> x.addWord(0, 0));
+    }
+
     private static void clearSyllables() {
-        CypherRing x = new CypherRing();
+        Tape x = new Tape();
         Check.due("3 empty", 0, x::clearSyllables);
         x.addSyllable(1, 1, 1, true);
         x.addSyllable(1, 1, 1, false);
         Check.due("3 two", 2, x::clearSyllables);
         Check.due("3 two are gone", 0, x::clearSyllables);
         x.addSyllable(2, 2, 2, false);
-        Check.dueThrow("3 the stress is gone, too", NOT_NOW, () -> x.addWord(0, 0));
+        Check.dueThrow(x, "3 the stress is gone, too", NOT_NOW, () -> x.addWord(0, 0));
         x.addSyllable(2, 2, 2, true);
         Check.due("3 word", 0, () -> x.addWord(0, 0));
         Check.due("3 word is cleared", 0, x::clearSyllables);
         Check.due("3 word has two", 2, () -> x.syllables(0));
+        for (int i = 0; i < 4; i++) {
+            x.addSyllable(3, 3, 3, true);
+        }
+        Check.due("3 four", 4, x::clearSyllables);
+        Check.due("3 first again", 1, () -> x.addSyllable(3, 3, 3, true));
     }
 
     private static void addWord() {
-        CypherRing x = new CypherRing();
+        Tape x = new Tape();
         Check.dueThrow(x, "4 no syllable", NOT_NOW, () -> x.addWord(0, 0));
+        addWordOutOfRange(x, "without syllables");
         x.addSyllable(1, 1, 1, false);
         Check.dueThrow(x, "4 none stressed", NOT_NOW, () -> x.addWord(2, 9));
-        Check.dueThrow(x, "4 language 3", RANGE, () -> x.addWord(3, 0));
-        Check.dueThrow(x, "4 language -1", RANGE, () -> x.addWord(-1, 0));
-        Check.dueThrow(x, "4 topic 10", RANGE, () -> x.addWord(0, 10));
-        Check.dueThrow(x, "4 topic -1", RANGE, () -> x.addWord(0, -1));
+        addWordOutOfRange(x, "with none stressed");
         Check.due("4 the draft is kept", 2, () -> x.addSyllable(1, 1, 1, true));
-        Check.due("4 first", 0, () -> x.addWord(2, 9));
+        addWordOutOfRange(x, "with one stressed");
+        Check.due("4 first, highest numbers", 0, () -> x.addWord(2, 9));
         Check.dueThrow(x, "4 it is cleared", NOT_NOW, () -> x.addWord(0, 0));
         x.addSyllable(1, 1, 1, true);
-        Check.due("4 second", 1, () -> x.addWord(0, 0));
+        Check.due("4 second, lowest numbers", 1, () -> x.addWord(0, 0));
+    }
+
+    private static void addWordOutOfRange(Tape x, String when) {
+        Check.dueThrowBeyond(x, "4 " + when + ", language", RANGE, 0, 2, n -> x.addWord(n, 0));
+        Check.dueThrowBeyond(x, "4 " + when + ", topic", RANGE, 0, 9, n -> x.addWord(0, n));
+    }
+
+    private static void addWordStressedOnce() {
+        for (int stressed = 0; stressed < 4; stressed++) {
+            Tape x = new Tape();
+            for (int i = 0; i < 4; i++) {
+                x.addSyllable(1, 1, 1, i == stressed);
+            }
+            Check.due("4 stressed once, on syllable " + stressed, 0, () -> x.addWord(0, 0));
+        }
     }
 
     private static void addWordAtTheLimit() {
-        CypherRing x = Ring.withWords(23);
+        Tape x = Ring.withWords(23);
         x.addSyllable(1, 1, 1, true);
         Check.due("4 the 24th", 23, () -> x.addWord(0, 0));
-        Check.dueThrow(x, "4 unstressed ahead of too many", NOT_NOW, () -> x.addWord(0, 0));
-        Check.due("4 a 25th is made", 1, () -> x.addSyllable(3, 3, 3, true));
+        Check.dueThrow(x, "4 no syllable ahead of too many", NOT_NOW, () -> x.addWord(0, 0));
+        x.addSyllable(3, 3, 3, false);
+        Check.dueThrow(x, "4 none stressed ahead of too many", NOT_NOW, () -> x.addWord(0, 0));
+        addWordOutOfRange(x, "with none stressed and too many");
+        Check.due("4 a 25th is made", 2, () -> x.addSyllable(3, 3, 3, true));
         Check.dueThrow(x, "4 the 25th", STATE, () -> x.addWord(0, 0));
-        Check.dueThrow(x, "4 range ahead of too many", RANGE, () -> x.addWord(0, 10));
-        Check.due("4 the 25th is not cleared", 1, x::clearSyllables);
+        addWordOutOfRange(x, "ahead of too many");
+        Check.due("4 the 25th is not cleared", 2, x::clearSyllables);
         Check.due("4 the 24th is as it was", 1, () -> x.syllables(23));
     }
 
     private static void syllables() {
-        CypherRing x = new CypherRing();
+        Tape x = new Tape();
+        Check.dueThrowBeyond(x, "5 without words,", INDEX, 0, -1, x::syllables);
         Ring.word(x, 1231);
+        Ring.word(x, 1230, 1231);
+        Ring.word(x, 1230, 1231, 1231);
         Ring.word(x, 1230, 1231, 1230, 1230);
-        Check.due("5 one", 1, () -> x.syllables(0));
-        Check.due("5 four", 4, () -> x.syllables(1));
+        for (int i = 0; i < 4; i++) {
+            int word = i;
+            Check.due("5 of word " + word, word + 1, () -> x.syllables(word));
+        }
         x.addSyllable(1, 1, 1, true);
-        Check.dueThrow(x, "5 the word that is made is none", INDEX, () -> x.syllables(2));
-        Check.dueThrow(x, "5 -1", INDEX, () -> x.syllables(-1));
-        Check.dueThrow(x, "5 greatest int", INDEX, () -> x.syllables(Integer.MAX_VALUE));
+        Check.dueThrowBeyond(x, "5 while a fifth is made,", INDEX, 0, 3, x::syllables);
+        Tape y = Ring.withWords(24);
+        Check.due("5 the last of all", 1, () -> y.syllables(23));
+        Check.dueThrowBeyond(y, "5 with 24 words,", INDEX, 0, 23, y::syllables);
     }
 
     private static void setAccent() {
-        CypherRing x = new CypherRing();
+        Tape x = new Tape();
         for (int region = 0; region < 4; region++) {
             for (int vowel = 0; vowel < 8; vowel++) {
                 int r = region;
@@ -136,17 +181,17 @@ public final class WordsTest {
         Check.due("6 set", 7, () -> x.setAccent(3, 7, 0));
         Check.due("6 was set", 0, () -> x.setAccent(3, 7, 5));
         Check.due("6 other region", 7, () -> x.setAccent(2, 7, 7));
-        Check.dueThrow("6 region -1", RANGE, () -> x.setAccent(-1, 0, 0));
-        Check.dueThrow("6 region 4", RANGE, () -> x.setAccent(4, 0, 0));
-        Check.dueThrow("6 vowel -1", RANGE, () -> x.setAccent(0, -1, 0));
-        Check.dueThrow("6 vowel 8", RANGE, () -> x.setAccent(0, 8, 0));
-        Check.dueThrow("6 as -1", RANGE, () -> x.setAccent(3, 7, -1));
-        Check.dueThrow("6 as 8", RANGE, () -> x.setAccent(3, 7, 8));
+        Check.due("6 other vowel", 6, () -> x.setAccent(3, 6, 6));
+        Check.due("6 first region, first vowel, last one as it sounds", 0, () -> x.setAccent(0, 0, 7));
+        Check.due("6 first region, first vowel, as it was set", 7, () -> x.setAccent(0, 0, 0));
+        Check.dueThrowBeyond(x, "6 region", RANGE, 0, 3, n -> x.setAccent(n, 0, 0));
+        Check.dueThrowBeyond(x, "6 vowel", RANGE, 0, 7, n -> x.setAccent(0, n, 0));
+        Check.dueThrowBeyond(x, "6 as", RANGE, 0, 7, n -> x.setAccent(3, 7, n));
         Check.due("6 as it was", 5, () -> x.setAccent(3, 7, 5));
     }
 
     private static void rhymeIdentical() {
-        CypherRing x = new CypherRing();
+        Tape x = new Tape();
         Ring.word(x, 1230, 4561);
         Ring.word(x, 1231, 4560);
         Ring.word(x, 1730, 4561);
@@ -163,7 +208,7 @@ public final class WordsTest {
     }
 
     private static void rhymeIdenticalBesideOtherSounds() {
-        CypherRing x = new CypherRing();
+        Tape x = new Tape();
         Ring.word(x, 1111, 2220, 3330, 4440);
         Ring.word(x, 1111, 2220, 3330, 4440);
         Ring.word(x, 5551);
@@ -176,7 +221,7 @@ public final class WordsTest {
     }
 
     private static void rhymePerfect() {
-        CypherRing x = new CypherRing();
+        Tape x = new Tape();
         Ring.word(x, 1231, 4560);
         Ring.word(x, 2231, 4560);
         Ring.word(x, 2231, 3560);
@@ -194,7 +239,7 @@ public final class WordsTest {
     }
 
     private static void rhymeByVowelsOrSlantly() {
-        CypherRing x = new CypherRing();
+        Tape x = new Tape();
         Ring.word(x, 1011);
         Ring.word(x, 1321);
         Ring.word(x, 1311);
@@ -219,7 +264,7 @@ public final class WordsTest {
     }
 
     private static void rhymeOfTailsAlone() {
-        CypherRing x = new CypherRing();
+        Tape x = new Tape();
         Ring.word(x, 1001, 2221, 3330);
         Ring.word(x, 1771, 4221, 3330);
         Ring.word(x, 4221, 3330);
@@ -230,19 +275,52 @@ public final class WordsTest {
         Check.due("7 shorter tail", 's', () -> x.rhyme(1, 3, 0));
     }
 
+    /** Two words that are unlike in one sign alone. */
+    private static void rhymeUnlikeByOne() {
+        int[][] others = {{3111, 2220}, {1111, 3220}, {1131, 2220}, {1111, 2230}, {1311, 2220}, {1111, 2320},
+            {1111, 2221}};
+        String kinds = "pvvvssi";
+        Tape x = new Tape();
+        Ring.word(x, 1111, 2220);
+        for (int i = 0; i < others.length; i++) {
+            int other = Ring.word(x, others[i]);
+            Check.due("7 unlike by one, " + i, kinds.charAt(i), () -> x.rhyme(0, other, 0));
+            Check.due("7 unlike by one, the other way, " + i, kinds.charAt(i), () -> x.rhyme(other, 0, 0));
+        }
+        Ring.word(x, 1110, 2221);
+        int[][] unlikeAhead = {{3110, 2221}, {1310, 2221}, {1130, 2221}};
+        for (int[] syllables : unlikeAhead) {
+            int other = Ring.word(x, syllables);
+            Check.due("7 unlike ahead of the tail, " + other, 'v', () -> x.rhyme(8, other, 0));
+        }
+    }
+
+    private static void rhymeOfTheLongestTails() {
+        int[][] others = {{9111, 2220, 3330, 4440}, {9111, 2220, 3330, 9440}, {9111, 2220, 3330, 4490},
+            {9111, 9220, 3330, 4440}, {9111, 2220, 3330, 4740}, {9111, 2220, 3330, 4770}};
+        String kinds = "pvvvs-";
+        Tape x = new Tape();
+        Ring.word(x, 1111, 2220, 3330, 4440);
+        for (int i = 0; i < others.length; i++) {
+            int other = Ring.word(x, others[i]);
+            Check.due("7 four syllables, " + i, kinds.charAt(i), () -> x.rhyme(0, other, 0));
+        }
+    }
+
     private static void rhymeThrows() {
-        CypherRing x = Ring.withWords(2);
-        Check.dueThrow(x, "7 word 2", INDEX, () -> x.rhyme(2, 0, 0));
-        Check.dueThrow(x, "7 word -1", INDEX, () -> x.rhyme(-1, 0, 0));
-        Check.dueThrow(x, "7 other 2", INDEX, () -> x.rhyme(0, 2, 0));
-        Check.dueThrow(x, "7 other -1", INDEX, () -> x.rhyme(0, -1, 0));
-        Check.dueThrow(x, "7 region 4", RANGE, () -> x.rhyme(0, 1, 4));
-        Check.dueThrow(x, "7 region -1", RANGE, () -> x.rhyme(0, 1, -1));
-        Check.dueThrow(x, "7 word ahead of region", INDEX, () -> x.rhyme(0, 2, 4));
+        Tape x = Ring.withWords(2);
+        for (int region : new int[] {0, 4}) {
+            Check.dueThrowBeyond(x, "7 region " + region + ", word", INDEX, 0, 1, n -> x.rhyme(n, 0, region));
+            Check.dueThrowBeyond(x, "7 region " + region + ", other", INDEX, 0, 1, n -> x.rhyme(0, n, region));
+        }
+        Check.dueThrowBeyond(x, "7 region", RANGE, 0, 3, n -> x.rhyme(0, 1, n));
+        Check.due("7 the last ones", 'i', () -> x.rhyme(1, 1, 3));
+        Tape y = new Tape();
+        Check.dueThrow(y, "7 no words", INDEX, () -> y.rhyme(0, 0, 4));
     }
 
     private static void near() {
-        CypherRing x = new CypherRing();
+        Tape x = new Tape();
         Ring.word(x, 1011);
         Ring.word(x, 5721);
         Ring.word(x, 1001, 1111, 3220);
@@ -258,24 +336,37 @@ public final class WordsTest {
         Check.due("8 not in another region", 15, () -> x.near(0, 1, 2));
     }
 
+    private static void nearAtMost() {
+        Tape x = new Tape();
+        Ring.word(x, 1001, 1000, 1000, 1000);
+        Ring.word(x, 9791, 9790, 9790, 9790);
+        Ring.word(x, 1000, 1000, 1000, 1001);
+        Ring.word(x, 9791);
+        Check.due("8 as far as can be", 4 * (2 * 7 + 1), () -> x.near(0, 1, 0));
+        Check.due("8 one and four syllables, unlike", 2 * 7 + 1 + 3 * 4, () -> x.near(3, 0, 0));
+        Check.due("8 the tails alone", 2 * 7 + 1, () -> x.near(2, 3, 0));
+        Check.due("8 like ends", 3 * 4, () -> x.near(2, 0, 0));
+        Check.due("8 the last one and itself, in the last region", 0, () -> x.near(3, 3, 3));
+    }
+
     private static void nearThrows() {
-        CypherRing x = Ring.withWords(2);
-        Check.dueThrow(x, "8 word 2", INDEX, () -> x.near(2, 0, 0));
-        Check.dueThrow(x, "8 word -1", INDEX, () -> x.near(-1, 0, 0));
-        Check.dueThrow(x, "8 other 2", INDEX, () -> x.near(0, 2, 0));
-        Check.dueThrow(x, "8 other -1", INDEX, () -> x.near(0, -1, 0));
-        Check.dueThrow(x, "8 region 4", RANGE, () -> x.near(0, 1, 4));
-        Check.dueThrow(x, "8 region -1", RANGE, () -> x.near(0, 1, -1));
-        Check.dueThrow(x, "8 word ahead of region", INDEX, () -> x.near(-1, 0, -1));
+        Tape x = Ring.withWords(2);
+        for (int region : new int[] {0, -1}) {
+            Check.dueThrowBeyond(x, "8 region " + region + ", word", INDEX, 0, 1, n -> x.near(n, 0, region));
+            Check.dueThrowBeyond(x, "8 region " + region + ", other", INDEX, 0, 1, n -> x.near(0, n, region));
+        }
+        Check.dueThrowBeyond(x, "8 region", RANGE, 0, 3, n -> x.near(0, 1, n));
+        Tape y = new Tape();
+        Check.dueThrow(y, "8 no words", INDEX, () -> y.near(0, 0, 4));
     }
 
     private static void bestRhyme() {
-        CypherRing x = new CypherRing();
+        Tape x = new Tape();
         Ring.word(x, 1011);
         Ring.word(x, 1011);
-        Check.dueThrow("9 an identical one does not rhyme so", NONE, () -> x.bestRhyme(0, 0));
+        Check.dueThrow(x, "9 an identical one does not rhyme so", NONE, () -> x.bestRhyme(0, 0));
         Ring.word(x, 1711);
-        Check.dueThrow("9 a far one does not rhyme so", NONE, () -> x.bestRhyme(0, 0));
+        Check.dueThrow(x, "9 a far one does not rhyme so", NONE, () -> x.bestRhyme(0, 0));
         Ring.word(x, 1311);
         Check.due("9 slantly", 3, () -> x.bestRhyme(0, 0));
         Ring.word(x, 1091);
@@ -291,7 +382,7 @@ public final class WordsTest {
     }
 
     private static void bestRhymeBreaksTies() {
-        CypherRing x = new CypherRing();
+        Tape x = new Tape();
         Ring.word(x, 1011);
         Ring.word(x, 1311);
         Ring.word(x, 1211);
@@ -302,7 +393,7 @@ public final class WordsTest {
         Ring.word(x, 1021);
         Ring.word(x, 1091);
         Check.due("9 the lowest of those by vowels", 6, () -> x.bestRhyme(0, 0));
-        CypherRing y = new CypherRing();
+        Tape y = new Tape();
         Ring.word(y, 1011, 1010);
         Ring.word(y, 1021, 1020);
         Ring.word(y, 1021, 1010);
@@ -311,38 +402,75 @@ public final class WordsTest {
         Check.due("9 of the last word", 0, () -> y.bestRhyme(3, 0));
     }
 
+    private static void bestRhymeByKindAheadOfNearness() {
+        Tape x = new Tape();
+        Ring.word(x, 1011, 1010, 1010, 1010);
+        Ring.word(x, 1011, 1010, 1010, 1110);
+        Check.due("9 slantly, near by 2", 1, () -> x.bestRhyme(0, 0));
+        Ring.word(x, 1021, 1020, 1020, 1020);
+        Check.due("8 by vowels, but near by 4", 4, () -> x.near(0, 2, 0));
+        Check.due("9 by vowels ahead of slantly, though farther", 2, () -> x.bestRhyme(0, 0));
+        Tape y = new Tape();
+        Ring.word(y, 1011);
+        Ring.word(y, 3010, 1011);
+        Ring.word(y, 2011);
+        Check.due("8 by vowels, and near by 0", 0, () -> y.near(0, 1, 0));
+        Check.due("9 perfectly ahead of by vowels, as near and higher", 2, () -> y.bestRhyme(0, 0));
+    }
+
+    private static void bestRhymeAtTheEndsOfTheWords() {
+        Tape x = Ring.withWords(22);
+        x.addSyllable(9, 7, 9, true);
+        Check.due("9 the 23rd", 22, () -> x.addWord(0, 0));
+        x.addSyllable(8, 7, 9, true);
+        Check.due("9 the 24th", 23, () -> x.addWord(0, 0));
+        Check.due("9 the last one of all", 23, () -> x.bestRhyme(22, 3));
+        Check.due("9 of the last one of all", 22, () -> x.bestRhyme(23, 3));
+        Check.due("9 the first one of all", 0, () -> x.bestRhyme(8, 0));
+        Check.due("9 of the first one of all", 8, () -> x.bestRhyme(0, 0));
+    }
+
     private static void bestRhymeThrows() {
-        CypherRing x = Ring.withWords(1);
+        Tape x = new Tape();
+        Check.dueThrow(x, "9 no words", INDEX, () -> x.bestRhyme(0, 4));
+        Ring.word(x, 1011);
         Check.dueThrow(x, "9 alone", NONE, () -> x.bestRhyme(0, 0));
-        Check.dueThrow(x, "9 word 1", INDEX, () -> x.bestRhyme(1, 0));
-        Check.dueThrow(x, "9 word -1", INDEX, () -> x.bestRhyme(-1, 4));
-        Check.dueThrow(x, "9 region 4", RANGE, () -> x.bestRhyme(0, 4));
-        Check.dueThrow(x, "9 region -1", RANGE, () -> x.bestRhyme(0, -1));
+        Check.dueThrowBeyond(x, "9 word", INDEX, 0, 0, n -> x.bestRhyme(n, 0));
+        Check.dueThrowBeyond(x, "9 word ahead of region, word", INDEX, 0, 0, n -> x.bestRhyme(n, 4));
+        Check.dueThrowBeyond(x, "9 alone, region", RANGE, 0, 3, n -> x.bestRhyme(0, n));
+        Ring.word(x, 2011);
+        Check.due("9 the last region", 1, () -> x.bestRhyme(0, 3));
+        Check.dueThrowBeyond(x, "9 not alone, region", RANGE, 0, 3, n -> x.bestRhyme(0, n));
     }
 
     private static void setBeat() {
-        CypherRing x = new CypherRing();
+        Tape x = new Tape();
         Check.due("10 90 at first", 90, () -> x.setBeat(60, 0));
         Check.due("10 60 before", 60, () -> x.setBeat(180, 49));
         Check.due("10 180 before", 180, () -> x.setBeat(90, 10));
     }
 
     private static void setBeatThrows() {
-        CypherRing x = new CypherRing();
-        Check.dueThrow(x, "10 tempo 59", RANGE, () -> x.setBeat(59, 10));
-        Check.dueThrow(x, "10 tempo 181", RANGE, () -> x.setBeat(181, 10));
-        Check.dueThrow(x, "10 tempo 0", RANGE, () -> x.setBeat(0, 10));
-        Check.dueThrow(x, "10 pocket -1", RANGE, () -> x.setBeat(100, -1));
-        Check.dueThrow(x, "10 pocket 50", RANGE, () -> x.setBeat(100, 50));
+        Tape x = new Tape();
+        setBeatOutOfRange(x, "at first");
         Check.due("10 as it was", 90, () -> x.setBeat(100, 0));
+        setBeatOutOfRange(x, "behind another one");
+    }
+
+    private static void setBeatOutOfRange(Tape x, String when) {
+        Check.dueThrowBeyond(x, "10 " + when + ", tempo", RANGE, 60, 180, n -> x.setBeat(n, 10));
+        Check.dueThrowBeyond(x, "10 " + when + ", pocket", RANGE, 0, 49, n -> x.setBeat(100, n));
     }
 
     private static void setBeatInBattle() {
-        CypherRing x = Ring.inBattle(1, 1, 1);
+        Tape x = Ring.inBattle(1, 1, 1);
         Check.dueThrow(x, "10 in a battle", STATE, () -> x.setBeat(100, 10));
-        Check.dueThrow(x, "10 range ahead of that", RANGE, () -> x.setBeat(59, 10));
-        Ring.chokeAll(x);
+        setBeatOutOfRange(x, "in a battle");
+        x.choke();
+        Check.dueThrow(x, "10 in the last turn", STATE, () -> x.setBeat(60, 0));
+        x.choke();
         Check.dueThrow(x, "10 in a battle that waits", STATE, () -> x.setBeat(100, 10));
+        setBeatOutOfRange(x, "in a battle that waits");
         x.decide(0);
         Check.due("10 behind a battle", 90, () -> x.setBeat(100, 10));
         x.challenge(0, 1, 0);
@@ -350,7 +478,7 @@ public final class WordsTest {
     }
 
     private static void barTime() {
-        CypherRing x = new CypherRing();
+        Tape x = new Tape();
         Check.due("11 at first, cut", 2666, x::barTime);
         x.setBeat(60, 0);
         Check.due("11 at 60", 4000, x::barTime);

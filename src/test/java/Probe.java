@@ -1,0 +1,256 @@
+import java.util.ArrayList;
+import java.util.List;
+
+/**
+ * Asks a ring for all that it holds, also for what only later calls tell: a challenge that waits, the word that is
+ * made, the open bar, what was read. Each script begins with the same calls on a ring of its own.
+ */
+final class Probe {
+    private static final int[] PERFORMERS = {0, 1, 2, 3, 9};
+    private static final List<List<Step>> SCRIPTS = List.of(words(), accents(), made(), league(), dodges(), offer(),
+            nextBattle(), turn(), openBar(), begunAnew(), topics(), decision(), season(), bars(), wordsOfBars(), reading(),
+            cards(), marks(), samples(), figures(), beat());
+
+    private Probe() {
+    }
+
+    /** All answers to the scripts, each on a new ring behind the first calls of a tape; none is asked too much. */
+    static List<String> told(Tape tape, int calls, int room) {
+        List<String> told = new ArrayList<>();
+        for (List<Step> script : SCRIPTS) {
+            CypherRing ring = tape.played(calls);
+            for (Step step : script.subList(0, Math.min(room, script.size()))) {
+                told.add(step + " = " + step.answerOn(ring));
+            }
+        }
+        return told;
+    }
+
+    /** Tells whether the last call of a tape changed nothing that can be told. */
+    static String changeByTheLast(Tape tape) {
+        int calls = tape.length();
+        int room = Tape.MOST_CALLS - calls;
+        return difference(told(tape, calls - 1, room), told(tape, calls, room));
+    }
+
+    /** The first answer behind something that is not the one before. */
+    static String difference(List<String> before, List<String> behind) {
+        for (int i = 0; i < before.size(); i++) {
+            if (!before.get(i).equals(behind.get(i))) {
+                return behind.get(i) + " in place of " + before.get(i);
+            }
+        }
+        return "nothing";
+    }
+
+    private static List<Step> steps(String... calls) {
+        List<Step> steps = new ArrayList<>();
+        for (String call : calls) {
+            steps.add(Step.of(call));
+        }
+        return steps;
+    }
+
+    private static List<Step> words() {
+        List<Step> script = new ArrayList<>();
+        for (int word = 0; word < 24; word++) {
+            script.add(new Step("syllables", word));
+            script.add(new Step("firstUser", word));
+            script.add(new Step("rhyme", 0, word, 0));
+            script.add(new Step("near", word, 1, 3));
+        }
+        return script;
+    }
+
+    private static List<Step> accents() {
+        List<Step> script = new ArrayList<>();
+        for (int region = 0; region < 4; region++) {
+            for (int vowel = 0; vowel < 8; vowel++) {
+                script.add(new Step("setAccent", region, vowel, vowel));
+            }
+        }
+        return script;
+    }
+
+    /** The word that is made: its end as it is, and whether it is stressed. */
+    private static List<Step> made() {
+        List<Step> script = steps("addWord(0, 0)", "clearSyllables()", "addSyllable(0, 0, 0, true)", "addWord(0, 9)");
+        for (int word = 0; word < 24; word++) {
+            script.add(new Step("syllables", word));
+            script.add(new Step("near", 0, word, 0));
+        }
+        return script;
+    }
+
+    private static List<Step> league() {
+        List<Step> script = new ArrayList<>();
+        for (int performer = 0; performer < 10; performer++) {
+            script.add(new Step("rating", performer));
+            script.add(new Step("tier", performer));
+            script.add(new Step("money", performer));
+        }
+        script.addAll(steps("addPerformer(2)", "addJudge(1, 1)", "addSample(0, 6, 100)"));
+        return script;
+    }
+
+    private static List<Step> dodges() {
+        List<Step> script = ended();
+        for (int challenger : PERFORMERS) {
+            for (int other : PERFORMERS) {
+                script.add(new Step("challenge", challenger, other, 0));
+            }
+        }
+        return script;
+    }
+
+    private static List<Step> offer() {
+        List<Step> script = steps("refuse()");
+        for (int i = 0; i < 3; i++) {
+            script.addAll(steps("challenge(0, 1, 0)", "refuse()"));
+        }
+        for (int performer : PERFORMERS) {
+            script.add(new Step("tier", performer));
+        }
+        return script;
+    }
+
+    private static List<Step> nextBattle() {
+        List<Step> script = steps("begin(2, 2)", "round()", "side()", "say(0, 0)", "closeBar()", "read()");
+        script.addAll(ended());
+        for (int performer : PERFORMERS) {
+            script.add(new Step("money", performer));
+        }
+        return script;
+    }
+
+    private static List<Step> turn() {
+        List<Step> script = new ArrayList<>();
+        for (int turn = 0; turn < 6; turn++) {
+            script.addAll(steps("isOn()", "side()", "round()", "choke()"));
+        }
+        return script;
+    }
+
+    private static List<Step> openBar() {
+        List<Step> script = new ArrayList<>();
+        for (int at = 0; at < 400; at += 25) {
+            script.add(new Step("say", 0, at));
+        }
+        script.addAll(steps("closeBar()", "bars()"));
+        script.addAll(wordsOfBars());
+        return script;
+    }
+
+    private static List<Step> begunAnew() {
+        List<Step> script = steps("restart()", "say(0, 0)", "closeBar()", "choke()", "restart()", "say(1, 9)",
+                "closeBar()", "choke()", "restart()");
+        script.addAll(bars());
+        return script;
+    }
+
+    private static List<Step> topics() {
+        List<Step> script = new ArrayList<>();
+        for (int topic = 0; topic < 10; topic++) {
+            script.add(new Step("barTopic", topic));
+        }
+        return script;
+    }
+
+    private static List<Step> decision() {
+        List<Step> script = ended();
+        script.addAll(league());
+        script.addAll(steps("challenge(0, 1, 7)", "begin(1, 1)", "choke()", "choke()", "decide(0)"));
+        script.addAll(steps("challenge(0, 1, 7)", "begin(1, 1)", "choke()", "choke()", "decide(0)"));
+        script.addAll(steps("challenge(0, 1, 7)", "begin(1, 1)"));
+        return script;
+    }
+
+    /** The next battle, and what is told of a bar in it by the battles before and by the styles. */
+    private static List<Step> season() {
+        List<Step> script = ended();
+        script.addAll(steps("challenge(0, 1, 7)", "begin(1, 2)", "say(0, 0)", "closeBar()", "wasHeard(0)", "say(1, 25)",
+                "say(0, 109)", "closeBar()", "wasHeard(1)", "landings(1)", "choke()", "choke()", "decide(0)"));
+        script.addAll(league());
+        return script;
+    }
+
+    private static List<Step> bars() {
+        List<Step> script = steps("bars()");
+        for (int bar = 0; bar < 24; bar++) {
+            script.add(new Step("landings", bar));
+            script.add(new Step("answers", bar));
+            script.add(new Step("wasHeard", bar));
+            script.add(new Step("languages", bar));
+            script.add(new Step("chain", 0, bar, 0));
+        }
+        return script;
+    }
+
+    private static List<Step> wordsOfBars() {
+        List<Step> script = new ArrayList<>();
+        for (int bar = 0; bar < 8; bar++) {
+            for (int index = 0; index < 5; index++) {
+                script.add(new Step("wordAt", bar, index));
+            }
+        }
+        return script;
+    }
+
+    private static List<Step> reading() {
+        List<Step> script = new ArrayList<>();
+        for (int i = 0; i < 20; i++) {
+            script.add(new Step("read"));
+        }
+        return script;
+    }
+
+    private static List<Step> cards() {
+        List<Step> script = new ArrayList<>();
+        for (int region = 0; region < 4; region++) {
+            script.add(new Step("crowd", region));
+            for (int judge = 0; judge < 5; judge++) {
+                script.add(new Step("isFor", judge, region));
+                for (int round = 0; round < 3; round++) {
+                    script.add(new Step("card", judge, round, region));
+                }
+            }
+        }
+        return script;
+    }
+
+    private static List<Step> marks() {
+        List<Step> script = new ArrayList<>();
+        for (int turn = 0; turn < 6; turn++) {
+            for (int what = 0; what < 4; what++) {
+                script.add(new Step("marks", turn / 2, turn % 2, what, 0));
+            }
+        }
+        return script;
+    }
+
+    private static List<Step> samples() {
+        List<Step> script = new ArrayList<>();
+        for (int sample = 0; sample < 10; sample++) {
+            script.add(new Step("needsClearing", sample));
+            script.add(new Step("paid", sample));
+            script.add(new Step("clear", sample, 0));
+            script.add(new Step("paid", sample));
+        }
+        return script;
+    }
+
+    private static List<Step> figures() {
+        return steps("elapsed()", "checksum()", "landedShare()", "meanRating()", "isSound()", "barTime()", "isOn()");
+    }
+
+    private static List<Step> beat() {
+        List<Step> script = ended();
+        script.addAll(steps("barTime()", "setBeat(60, 0)", "barTime()"));
+        return script;
+    }
+
+    /** The end of the battle that goes on, if there is one. */
+    private static List<Step> ended() {
+        return steps("choke()", "choke()", "choke()", "choke()", "choke()", "choke()", "decide(0)");
+    }
+}
