@@ -3,9 +3,7 @@ import java.util.NoSuchElementException;
 /** Promises 27 to 35: what is told of bars, and reading. */
 public final class BarsTest {
     private static final Class<?> RANGE = IllegalArgumentException.class;
-    private static final Class<?> STATE = IllegalStateException.class;
     private static final Class<?> INDEX = IndexOutOfBoundsException.class;
-    private static final Class<?> NOT_NOW = UnsupportedOperationException.class;
     private static final Class<?> NONE = NoSuchElementException.class;
 
     public static void main(String[] args) {
@@ -21,15 +19,18 @@ public final class BarsTest {
         answersNotToLostWords();
         chain();
         chainAtTheEdges();
+        chainOfSoundsAtTheEnds();
         chainThrows();
         wasHeard();
         wasHeardWithEachSound();
+        wasHeardOfSoundsAtTheEnds();
         wasHeardOfLostWords();
         languages();
         firstUser();
         firstUserOfTheFirstAndTheLast();
         firstUserOfLostWords();
         read();
+        readAll();
         Check.end();
     }
 
@@ -325,6 +326,24 @@ public final class BarsTest {
         Check.due("31 not in the one ahead of it", 0, () -> x.chain(0, 1, 2));
     }
 
+    /** Syllables whose sounds are next to each other, were all of them counted in one row. */
+    private static void chainOfSoundsAtTheEnds() {
+        int[][] pairs = {{91, 1}, {91, 101}, {791, 1001}, {9791, 701}, {9701, 9001}, {9791, 1}};
+        int[] chains = {1, 0, 0, 1, 0, 0};
+        for (int i = 0; i < pairs.length; i++) {
+            Tape x = new Tape();
+            Ring.word(x, pairs[i][0]);
+            Ring.word(x, pairs[i][1]);
+            Ring.performers(x, 0, 0);
+            x.challenge(0, 1, 0);
+            x.begin(1, 2);
+            Ring.bar(x, 0);
+            Ring.bar(x, 1);
+            Check.due("31 of pair " + i, chains[i], () -> x.chain(0, 1, 0));
+            Check.due("31 of pair " + i + ", the other way", chains[i], () -> x.chain(1, 0, 3));
+        }
+    }
+
     private static void chainThrows() {
         Tape x = Ring.inBattle(1, 1, 2);
         Ring.bar(x, 0);
@@ -389,19 +408,34 @@ public final class BarsTest {
             Tape x = new Tape();
             Ring.word(x, words[0]);
             int other = Ring.word(x, words[i]);
-            Ring.performers(x, 0, 0);
-            x.challenge(0, 1, 0);
-            x.begin(1, 1);
-            Ring.bar(x, 0);
-            x.choke();
-            x.decide(0);
-            x.challenge(0, 1, 0);
-            x.begin(1, 1);
-            x.say(other, 33);
-            x.closeBar();
             boolean isLike = i == 0 || i == 7;
-            Check.due("32 of word " + i, isLike, () -> x.wasHeard(0));
+            Check.due("32 of word " + i, isLike, () -> isHeardBehind(x, other, 0));
         }
+    }
+
+    private static void wasHeardOfSoundsAtTheEnds() {
+        int[][] pairs = {{91, 101}, {101, 91}, {791, 1001}, {1001, 791}, {9791, 1}, {1, 9791}, {9791, 9791}, {1, 1}};
+        for (int[] pair : pairs) {
+            Tape x = new Tape();
+            Ring.word(x, pair[0]);
+            Ring.word(x, pair[1]);
+            Check.due("32 " + pair[1] + " behind " + pair[0], pair[0] == pair[1], () -> isHeardBehind(x, 1, 0));
+        }
+    }
+
+    /** Whether a bar of a word is heard behind a battle with a bar of another one. */
+    private static boolean isHeardBehind(Tape x, int word, int before) {
+        Ring.performers(x, 0, 0);
+        x.challenge(0, 1, 0);
+        x.begin(1, 1);
+        Ring.bar(x, before);
+        x.choke();
+        x.decide(0);
+        x.challenge(0, 1, 0);
+        x.begin(1, 1);
+        x.say(word, 33);
+        x.closeBar();
+        return x.wasHeard(0);
     }
 
     private static void wasHeardOfLostWords() {
@@ -534,5 +568,20 @@ public final class BarsTest {
         Ring.bar(x, 0);
         Check.due("35 not what was left of the battle before", 0, x::read);
         Check.dueThrow(x, "35 that was all", NONE, x::read);
+    }
+
+    /** All words of the first and the last bar, of both sides and of all rounds, and not one more. */
+    private static void readAll() {
+        Tape x = Ring.inBattle(3, 3, 4);
+        for (int bar = 0; bar < 24; bar++) {
+            Ring.bar(x, bar % 3, (bar + 1) % 3, 0, 1, 2, 2, 1, bar % 2);
+        }
+        for (int bar = 0; bar < 24; bar++) {
+            int[] words = {bar % 3, (bar + 1) % 3, 0, 1, 2, 2, 1, bar % 2};
+            for (int word : words) {
+                Check.due("35 of bar " + bar, word, x::read);
+            }
+        }
+        Check.dueThrow(x, "35 behind the last one", NONE, x::read);
     }
 }

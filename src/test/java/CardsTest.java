@@ -34,15 +34,6 @@ public final class CardsTest {
         Check.end();
     }
 
-    /** Two performers, 1 being first, in a battle with a pocket of 0. */
-    private static Tape battle(Tape x, int rounds, int bars) {
-        Ring.performers(x, 0, 0);
-        x.setBeat(90, 0);
-        x.challenge(0, 1, 0);
-        x.begin(rounds, bars);
-        return x;
-    }
-
     private static void one(Tape x, int word, int at) {
         x.say(word, at);
         x.closeBar();
@@ -65,26 +56,16 @@ public final class CardsTest {
         Check.dueThrowBeyond(x, "36 " + when + ", leaning", RANGE, -20, 20, n -> x.addJudge(0, n));
     }
 
-    private static Tape withRhymes() {
-        Tape x = new Tape();
-        Ring.word(x, 1011);
-        Ring.word(x, 2011);
-        Ring.word(x, 2021);
-        Ring.word(x, 2321);
-        Ring.word(x, 2721);
-        return x;
-    }
-
     private static void marksOfRhymes() {
         int[][] pairs = {{0, 1, 3}, {0, 2, 2}, {2, 3, 1}, {0, 4, 0}, {0, 0, 0}, {3, 2, 1}};
         for (int[] pair : pairs) {
-            Tape x = battle(withRhymes(), 1, 2);
+            Tape x = Ring.exactBattle(Ring.withRhymes(), 1, 2);
             Ring.bar(x, 4, pair[0]);
             Check.due("37 one bar", 0, () -> x.marks(0, 0, 0, 0));
             Ring.bar(x, 4, pair[1]);
             Check.due("37 ends " + pair[0] + " and " + pair[1], pair[2], () -> x.marks(0, 0, 0, 0));
         }
-        Tape x = battle(withRhymes(), 1, 3);
+        Tape x = Ring.exactBattle(Ring.withRhymes(), 1, 3);
         Ring.bar(x, 0);
         Ring.bar(x, 4);
         Check.due("37 unlike ends", 0, () -> x.marks(0, 0, 0, 2));
@@ -94,7 +75,7 @@ public final class CardsTest {
     }
 
     private static void marksOfRhymesNextToEachOther() {
-        Tape x = battle(withRhymes(), 2, 4);
+        Tape x = Ring.exactBattle(Ring.withRhymes(), 2, 4);
         Ring.bar(x, 0);
         Ring.bar(x, 1);
         Ring.bar(x, 0);
@@ -113,7 +94,7 @@ public final class CardsTest {
     }
 
     private static void marksOfLandings() {
-        Tape x = battle(Ring.withWords(1), 1, 2);
+        Tape x = Ring.exactBattle(Ring.withWords(1), 1, 2);
         x.say(0, 0);
         x.say(0, 100);
         x.say(0, 150);
@@ -126,7 +107,7 @@ public final class CardsTest {
     }
 
     private static void marksOfAnswers() {
-        Tape x = battle(Ring.withWords(4), 2, 2);
+        Tape x = Ring.exactBattle(Ring.withWords(4), 2, 2);
         Ring.bar(x, 0, 1);
         Ring.bar(x, 2);
         Ring.bar(x, 0, 1, 3, 1);
@@ -143,7 +124,7 @@ public final class CardsTest {
         for (int vowel = 0; vowel < 4; vowel++) {
             Ring.word(x, 1001 + 100 * vowel);
         }
-        battle(x, 1, 4);
+        Ring.exactBattle(x, 1, 4);
         Ring.bar(x, 0, 1, 2, 3);
         Check.due("37 no next bar", 0, () -> x.marks(0, 0, 3, 0));
         Ring.bar(x, 3, 2, 3);
@@ -159,7 +140,7 @@ public final class CardsTest {
         x.setAccent(1, 2, 3);
         Check.due("37 by the region", 3, () -> x.marks(0, 0, 3, 1));
         Check.due("37 by another region", 2, () -> x.marks(0, 0, 3, 0));
-        Tape y = battle(Ring.withWords(2), 1, 2);
+        Tape y = Ring.exactBattle(Ring.withWords(2), 1, 2);
         Ring.bar(y, 0);
         y.choke();
         Ring.bar(y, 0);
@@ -167,7 +148,7 @@ public final class CardsTest {
     }
 
     private static void marksWithoutBarsThatWereHeard() {
-        Tape x = battle(withRhymes(), 1, 4);
+        Tape x = Ring.exactBattle(Ring.withRhymes(), 1, 4);
         Ring.bar(x, 1);
         x.choke();
         Ring.bar(x, 0);
@@ -202,7 +183,7 @@ public final class CardsTest {
         int[][] ends = {{0, 1, 2}, {1, 0, 2}, {1, 2, 0}, {0, 0, 0}, {1, 2, 1}};
         int[][] marks = {{2, 2, 1}, {0, 2, 0}, {2, 2, 1}, {0, 0, 0}, {4, 3, 1}};
         for (int i = 0; i < ends.length; i++) {
-            Tape x = battle(withRhymes(), 1, 1);
+            Tape x = Ring.exactBattle(Ring.withRhymes(), 1, 1);
             Ring.bar(x, 0);
             x.choke();
             x.decide(0);
@@ -220,7 +201,7 @@ public final class CardsTest {
 
     /** As many turns and bars as there can be, of two words that rhyme perfectly. */
     private static void marksOfAllTurns() {
-        Tape x = battle(withRhymes(), 3, 4);
+        Tape x = Ring.exactBattle(Ring.withRhymes(), 3, 4);
         x.addJudge(1000, 1);
         for (int turn = 0; turn < 6; turn++) {
             int round = turn / 2;
@@ -285,7 +266,7 @@ public final class CardsTest {
     private static void marksThrows() {
         marksOutOfRange(new Tape(), 0, "a new object");
         for (int rounds = 1; rounds <= 3; rounds++) {
-            Tape x = battle(Ring.withWords(1), rounds, 1);
+            Tape x = Ring.exactBattle(Ring.withWords(1), rounds, 1);
             int last = rounds - 1;
             marksOutOfRange(x, rounds, rounds + " rounds");
             Check.due("37 the last of " + rounds + " rounds", 0, () -> x.marks(last, 1, 3, 3));
@@ -293,7 +274,7 @@ public final class CardsTest {
     }
 
     private static void card() {
-        Tape x = battle(withRhymes(), 2, 2);
+        Tape x = Ring.exactBattle(Ring.withRhymes(), 2, 2);
         x.addJudge(1000, 0);
         x.addJudge(200, 0);
         x.addJudge(30, 0);
@@ -367,7 +348,7 @@ public final class CardsTest {
 
     /** The least and the greatest that a card can be by the leaning alone. */
     private static void cardOfTheLeaning() {
-        Tape x = battle(Ring.withWords(1), 1, 1);
+        Tape x = Ring.exactBattle(Ring.withWords(1), 1, 1);
         x.addJudge(9999, -20);
         x.addJudge(9999, 20);
         Check.due("38 the least leaning", -20, () -> x.card(0, 0, 0));
@@ -431,7 +412,7 @@ public final class CardsTest {
     }
 
     private static void isForByTheRegion() {
-        Tape x = battle(withRhymes(), 1, 2);
+        Tape x = Ring.exactBattle(Ring.withRhymes(), 1, 2);
         x.addJudge(1000, 0);
         Ring.bar(x, 0);
         Ring.bar(x, 4);
@@ -440,8 +421,6 @@ public final class CardsTest {
         Check.due("39 the first side in the last region", 'f', () -> x.isFor(0, 3));
         Check.due("39 nobody in the one ahead of it", '-', () -> x.isFor(0, 2));
         Check.due("40 the crowd in the last region", 'f', () -> x.crowd(3));
-        x.choke();
-        Check.due("41 by the last region", 1, () -> x.decide(3));
     }
 
     private static void isForThrows() {
@@ -481,7 +460,7 @@ public final class CardsTest {
         Check.due("40 the second round", 's', () -> Ring.rounds(0, 0, 0, 1, 4, 0).crowd(0));
         Check.due("40 the sum of two rounds", 'f', () -> Ring.rounds(3, 0, 0, 1, 0, 4).crowd(0));
         Check.due("40 nobody", '-', () -> Ring.rounds(2, 0, 0, 1, 4, 0).crowd(0));
-        Tape y = battle(withRhymes(), 1, 2);
+        Tape y = Ring.exactBattle(Ring.withRhymes(), 1, 2);
         Ring.bar(y, 3);
         Ring.bar(y, 4);
         Ring.bar(y, 4, 4);
@@ -491,7 +470,7 @@ public final class CardsTest {
     }
 
     private static void crowdWeighsAllAlike() {
-        Tape rhymes = battle(withRhymes(), 1, 2);
+        Tape rhymes = Ring.exactBattle(Ring.withRhymes(), 1, 2);
         one(rhymes, 2, 50);
         one(rhymes, 3, 50);
         Check.due("40 one rhyme", 'f', () -> rhymes.crowd(0));
@@ -501,13 +480,13 @@ public final class CardsTest {
         Ring.word(chains, 1071, 1000);
         Ring.word(chains, 1771, 1000);
         Ring.word(chains, 1111);
-        battle(chains, 1, 2);
+        Ring.exactBattle(chains, 1, 2);
         one(chains, 0, 50);
         one(chains, 1, 50);
         Check.due("40 one chain", 'f', () -> chains.crowd(0));
         one(chains, 2, 0);
         Check.due("40 one chain against one landing", '-', () -> chains.crowd(0));
-        Tape answers = battle(Ring.withWords(1), 1, 1);
+        Tape answers = Ring.exactBattle(Ring.withWords(1), 1, 1);
         one(answers, 0, 0);
         Check.due("40 one landing", 'f', () -> answers.crowd(0));
         one(answers, 0, 50);

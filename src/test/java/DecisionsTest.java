@@ -10,6 +10,7 @@ public final class DecisionsTest {
         decideThrows();
         decideByMore();
         decideByRounds();
+        decideByTheRegion();
         decideDrawn();
         pursesAtTheLimits();
         pursesAddUp();
@@ -92,6 +93,34 @@ public final class DecisionsTest {
         Tape x = Ring.rounds(1, 0, 0, 0, 0, 4);
         x.addJudge(1111, 0);
         Check.due("41 a judge by all three", -1, () -> x.decide(0));
+    }
+
+    /** Ends that rhyme in the last region alone: once with the crowd for nobody there, once without judges. */
+    private static void decideByTheRegion() {
+        for (int region = 0; region < 4; region++) {
+            int told = region;
+            boolean isLast = region == 3;
+            Tape judged = withEndsThatRhymeInTheLastRegion();
+            judged.addJudge(1000, 0);
+            judged.say(0, 0);
+            judged.closeBar();
+            judged.choke();
+            Check.due("40 in region " + region, isLast ? '-' : 's', () -> judged.crowd(told));
+            Check.due("41 by a judge, region " + region, isLast ? 1 : 0, () -> judged.decide(told));
+            Tape crowded = withEndsThatRhymeInTheLastRegion();
+            crowded.choke();
+            Check.due("41 by the crowd, region " + region, isLast ? 1 : -1, () -> crowded.decide(told));
+        }
+    }
+
+    private static Tape withEndsThatRhymeInTheLastRegion() {
+        Tape x = Ring.exactBattle(Ring.withRhymes(), 1, 2);
+        x.setAccent(3, 7, 6);
+        for (int word = 3; word <= 4; word++) {
+            x.say(word, 50);
+            x.closeBar();
+        }
+        return x;
     }
 
     private static void decideDrawn() {

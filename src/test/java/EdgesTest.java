@@ -20,9 +20,17 @@ public final class EdgesTest {
     private static final String[] TOPICS = {"barTopic(0)", "barTopic(3)"};
     private static final String[] OPEN_BAR = {"say(1, 0)", "say(1, 60)"};
     private static final String[] FIRST_TURN = {"say(0, 0)", "closeBar()", "say(1, 20)", "say(0, 100)", "closeBar()"};
-    private static final String[] SECOND_TURN = {"say(1, 350)", "closeBar()", "say(0, 90)", "say(0, 375)", "closeBar()"};
+    private static final String[] SECOND_TURN = {"say(1, 350)", "closeBar()", "say(0, 90)", "say(0, 375)",
+        "closeBar()"};
     private static final String[] TWO_CHOKES = {"choke()", "choke()"};
     private static final String[] DECISION = {"decide(0)"};
+
+    private static final String[] RICH = {"setAccent(3, 0, 7)", "clear(1, 1)", "challenge(9, 0, 5)", "refuse()",
+        "setBeat(120, 7)", "challenge(0, 1, 11)", "begin(1, 2)", "say(0, 0)", "closeBar()", "say(1, 20)", "say(2, 100)",
+        "closeBar()", "say(3, 0)", "closeBar()", "choke()", "decide(0)", "challenge(1, 0, 13)", "begin(2, 2)",
+        "barTopic(9)", "barTopic(7)", "say(4, 0)", "restart()", "say(3, 0)", "closeBar()", "read()", "say(5, 0)"};
+    private static final String[] RICH_SECOND_TURN = {"closeBar()", "say(5, 0)", "say(2, 90)"};
+    private static final String[] RICH_END = {"restart()", "say(2, 0)", "closeBar()", "choke()", "choke()", "choke()"};
 
     private final Tape base = new Tape();
     private final String state;
@@ -45,6 +53,7 @@ public final class EdgesTest {
         leagues();
         firstTurns();
         laterTurns();
+        richStates();
         Check.end();
     }
 
@@ -87,6 +96,17 @@ public final class EdgesTest {
                 .playAll();
         new EdgesTest("bars that were heard", TWO_WORDS, BATTLE, FIRST_TURN, SECOND_TURN, TWO_CHOKES, DECISION, BATTLE,
                 FIRST_TURN, new String[] {"read()"}).playAll();
+    }
+
+    /** All places taken, a word that is made, and a second battle: there is much that a refused call could change. */
+    private static void richStates() {
+        String[] all = allTaken();
+        new EdgesTest("rich, first turn", all, FOUR_SYLLABLES, RICH).playAll();
+        new EdgesTest("rich, second turn", all, ONE_UNSTRESSED, RICH, RICH_SECOND_TURN).playAll();
+        new EdgesTest("rich, waiting", all, FOUR_SYLLABLES, RICH, RICH_SECOND_TURN, RICH_END).playAll();
+        new EdgesTest("rich, decided", all, ONE_UNSTRESSED, RICH, RICH_SECOND_TURN, RICH_END, DECISION).playAll();
+        new EdgesTest("rich, the next challenge", all, FOUR_SYLLABLES, RICH, RICH_SECOND_TURN, RICH_END, DECISION,
+                CHALLENGE).playAll();
     }
 
     /** 24 words, and as many performers, judges and samples as there can be. */

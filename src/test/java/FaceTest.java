@@ -30,7 +30,8 @@ public final class FaceTest {
         "int side() throws IllegalStateException",
         "int round() throws IllegalStateException",
         "int say(int,int)"
-            + " throws IndexOutOfBoundsException,IllegalArgumentException,IllegalStateException,UnsupportedOperationException",
+            + " throws IndexOutOfBoundsException,IllegalArgumentException,IllegalStateException"
+            + ",UnsupportedOperationException",
         "int closeBar() throws IllegalStateException,UnsupportedOperationException",
         "int choke() throws IllegalStateException",
         "int restart() throws IllegalStateException,UnsupportedOperationException",

@@ -25,6 +25,7 @@ public final class FiguresTest {
         meanRating();
         meanRatingOfAll();
         isSound();
+        isSoundAtTheEdges();
         Check.end();
     }
 
@@ -318,6 +319,34 @@ public final class FiguresTest {
         x.decide(0);
         Check.due("13 one changed", 1020, () -> x.rating(9));
         Check.due("49 ten behind a decision", 1000.0, x::meanRating);
+    }
+
+    /** The first and the last performer as first users, and bars that end at 400. */
+    private static void isSoundAtTheEdges() {
+        Tape x = Ring.withPerformers(0, 0, 0, 0, 0, 0, 0, 0, 0, 0);
+        Ring.wordOf(x, 0, 0, 1111, 1110, 1110, 1110);
+        Ring.wordOf(x, 0, 9, 1111);
+        Ring.wordOf(x, 0, 5, 1111);
+        x.challenge(0, 9, 0);
+        x.begin(1, 1);
+        x.barTopic(5);
+        x.say(0, 300);
+        Check.due("50 an open bar", true, x::isSound);
+        x.closeBar();
+        Check.due("50 of the last performer", true, x::isSound);
+        x.say(1, 0);
+        x.say(0, 25);
+        x.say(1, 375);
+        x.closeBar();
+        Check.due("34 of the first performer", 0, () -> x.firstUser(1));
+        Check.due("50 of the first performer", true, x::isSound);
+        x.decide(0);
+        Check.due("50 decided", true, x::isSound);
+        x.challenge(0, 9, 0);
+        x.begin(1, 1);
+        x.say(2, 0);
+        x.closeBar();
+        Check.due("50 a topic that was barred ahead of this battle", true, x::isSound);
     }
 
     private static void isSound() {

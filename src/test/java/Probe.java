@@ -8,8 +8,8 @@ import java.util.List;
 final class Probe {
     private static final int[] PERFORMERS = {0, 1, 2, 3, 9};
     private static final List<List<Step>> SCRIPTS = List.of(words(), accents(), made(), league(), dodges(), offer(),
-            nextBattle(), turn(), openBar(), begunAnew(), topics(), decision(), season(), bars(), wordsOfBars(), reading(),
-            cards(), marks(), samples(), figures(), beat());
+            nextBattle(), turn(), openBar(), begunAnew(), topics(), decision(), season(), styles(), bars(),
+            wordsOfBars(), reading(), cards(), marks(), samples(), figures(), beat());
 
     private Probe() {
     }
@@ -165,12 +165,23 @@ final class Probe {
         return script;
     }
 
-    /** The next battle, and what is told of a bar in it by the battles before and by the styles. */
+    /** The next battle, and what is told of bars in it by the battles before and by the beat. */
     private static List<Step> season() {
         List<Step> script = ended();
         script.addAll(steps("challenge(0, 1, 7)", "begin(1, 2)", "say(0, 0)", "closeBar()", "wasHeard(0)", "say(1, 25)",
                 "say(0, 109)", "closeBar()", "wasHeard(1)", "landings(1)", "choke()", "choke()", "decide(0)"));
         script.addAll(league());
+        return script;
+    }
+
+    /** Ratings behind battles that the first side wins, by judges, if there is room for them, who lean to it. */
+    private static List<Step> styles() {
+        List<Step> script = ended();
+        script.addAll(steps("addJudge(0, 20)", "addJudge(0, 20)"));
+        for (int i = 0; i < 4; i++) {
+            script.add(new Step("challenge", i % 2, 1 - i % 2, 3));
+            script.addAll(steps("begin(1, 1)", "choke()", "choke()", "decide(0)", "rating(0)", "rating(1)"));
+        }
         return script;
     }
 

@@ -84,4 +84,24 @@ final class Ring {
         }
         return x;
     }
+
+    /** Two performers, 1 being first, in a battle with a pocket of 0. */
+    static Tape exactBattle(Tape x, int rounds, int bars) {
+        performers(x, 0, 0);
+        x.setBeat(90, 0);
+        x.challenge(0, 1, 0);
+        x.begin(rounds, bars);
+        return x;
+    }
+
+    /** Words of which 1 rhymes perfectly with 0, 2 by vowels; 3 is slant to 2, and 4 to none of them. */
+    static Tape withRhymes() {
+        Tape x = new Tape();
+        word(x, 1011);
+        word(x, 2011);
+        word(x, 2021);
+        word(x, 2321);
+        word(x, 2721);
+        return x;
+    }
 }

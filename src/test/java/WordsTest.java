@@ -38,6 +38,7 @@ public final class WordsTest {
         setBeatThrows();
         setBeatInBattle();
         barTime();
+        barTimeOfEachTempo();
         Check.end();
     }
 
@@ -480,11 +481,22 @@ public final class WordsTest {
     private static void barTime() {
         Tape x = new Tape();
         Check.due("11 at first, cut", 2666, x::barTime);
-        x.setBeat(60, 0);
-        Check.due("11 at 60", 4000, x::barTime);
-        x.setBeat(180, 0);
-        Check.due("11 at 180, cut", 1333, x::barTime);
-        x.setBeat(179, 0);
-        Check.due("11 at 179, cut", 1340, x::barTime);
+        int[] tempos = {60, 61, 107, 179, 180};
+        int[] times = {4000, 3934, 2242, 1340, 1333};
+        for (int i = 0; i < tempos.length; i++) {
+            x.setBeat(tempos[i], 0);
+            Check.due("11 at " + tempos[i], times[i], x::barTime);
+        }
+    }
+
+    /** How often the tempo goes into 240000; once more is too often. */
+    private static void barTimeOfEachTempo() {
+        Tape x = new Tape();
+        for (int tempo = 60; tempo <= 180; tempo++) {
+            x.setBeat(tempo, 0);
+            int time = x.barTime();
+            boolean isCut = time * tempo <= 240000 && (time + 1) * tempo > 240000;
+            Check.due("11 at " + tempo + ", cut to " + time, true, () -> isCut);
+        }
     }
 }
