@@ -248,21 +248,30 @@ public final class BarsTest {
         Check.due("30 not by what came behind it", 0, () -> x.answers(1));
     }
 
-    /** Words that were lost, in each way, were not said in closed bars. */
     private static void answersNotToLostWords() {
-        Tape x = Ring.inBattle(4, 2, 1);
+        Tape x = withLostWords(2);
+        Ring.bar(x, 2, 0, 1);
+        Check.due("30 not to words lost by a barred one", 0, () -> x.answers(0));
+        Ring.bar(x, 0, 1);
+        Check.due("30 but to those closed behind them", 2, () -> x.answers(1));
+        Tape y = withLostWords(2);
+        y.choke();
+        Ring.bar(y, 0, 1);
+        Check.due("30 not to words gone, or lost by choking", 0, () -> y.answers(0));
+    }
+
+    /** Word 0 is gone by beginning anew, 1 is lost by choking, and 2 by 3, which is barred; with that a round is over. */
+    private static Tape withLostWords(int rounds) {
+        Tape x = Ring.inBattle(3, rounds, 1);
         int barred = Ring.wordOf(x, 0, 7, 9791);
         x.barTopic(7);
         x.say(0, 0);
         x.restart();
         x.say(1, 0);
         x.choke();
-        Ring.bar(x, 0, 1);
         x.say(2, 0);
         x.say(barred, 25);
-        Ring.bar(x, 0, 1, 2);
-        Check.due("30 not to words gone, or lost by choking", 0, () -> x.answers(0));
-        Check.due("30 not to words lost by a barred one", 0, () -> x.answers(1));
+        return x;
     }
 
     private static void chain() {
@@ -439,15 +448,7 @@ public final class BarsTest {
     }
 
     private static void wasHeardOfLostWords() {
-        Tape x = Ring.inBattle(3, 1, 2);
-        int barred = Ring.wordOf(x, 0, 7, 9791);
-        x.barTopic(7);
-        x.say(0, 0);
-        x.restart();
-        x.say(1, 0);
-        x.choke();
-        x.say(2, 0);
-        x.say(barred, 25);
+        Tape x = withLostWords(1);
         x.decide(0);
         x.challenge(0, 1, 0);
         x.begin(2, 2);
@@ -520,15 +521,7 @@ public final class BarsTest {
     }
 
     private static void firstUserOfLostWords() {
-        Tape x = Ring.inBattle(3, 1, 1);
-        int barred = Ring.wordOf(x, 0, 7, 9791);
-        x.barTopic(7);
-        x.say(0, 0);
-        x.restart();
-        x.say(1, 0);
-        x.choke();
-        x.say(2, 0);
-        x.say(barred, 25);
+        Tape x = withLostWords(1);
         for (int i = 0; i < 4; i++) {
             int word = i;
             Check.dueThrow(x, "34 lost was word " + word, NONE, () -> x.firstUser(word));

@@ -32,6 +32,16 @@ public final class EdgesTest {
     private static final String[] RICH_SECOND_TURN = {"closeBar()", "say(5, 0)", "say(2, 90)"};
     private static final String[] RICH_END = {"restart()", "say(2, 0)", "closeBar()", "choke()", "choke()", "choke()"};
 
+    private static final int[] REGION = around(0, 3);
+    private static final int[] DIGIT = around(0, 9);
+    private static final int[] VOWEL = around(0, 7);
+    private static final int[] TRUTH = {0, 1};
+    private static final int[] WORD = {-1, 0, 1, 2, 23, 24};
+    private static final int[] PERFORMER = {-1, 0, 1, 2, 9, 10};
+    private static final int[] BAR = {-1, 0, 1, 2, 3, 4, 23, 24};
+    private static final int[] ROUND = {Integer.MIN_VALUE, -1, 0, 1, 2, 3, Integer.MAX_VALUE};
+    private static final int[] PLACE = {-1, 0, 24, 25, 49, 50, 109, 110, 350, 351, 375, 376, 399, 400};
+
     private final Tape base = new Tape();
     private final String state;
     private Tape refused;
@@ -125,16 +135,6 @@ public final class EdgesTest {
         }
         return steps.toArray(new String[0]);
     }
-
-    private static final int[] REGION = around(0, 3);
-    private static final int[] DIGIT = around(0, 9);
-    private static final int[] VOWEL = around(0, 7);
-    private static final int[] TRUTH = {0, 1};
-    private static final int[] WORD = {-1, 0, 1, 2, 23, 24};
-    private static final int[] PERFORMER = {-1, 0, 1, 2, 9, 10};
-    private static final int[] BAR = {-1, 0, 1, 2, 3, 4, 23, 24};
-    private static final int[] ROUND = {Integer.MIN_VALUE, -1, 0, 1, 2, 3, Integer.MAX_VALUE};
-    private static final int[] PLACE = {-1, 0, 24, 25, 49, 50, 109, 110, 350, 351, 375, 376, 399, 400};
 
     /** The least and the greatest number of a range, those next to it, and those farthest out of it. */
     private static int[] around(int low, int high) {

@@ -141,9 +141,17 @@ final class Probe {
         return script;
     }
 
+    /** Bars of many words by both sides, each of which begins its turn anew, if it can; the answers in them. */
     private static List<Step> begunAnew() {
-        List<Step> script = steps("restart()", "say(0, 0)", "closeBar()", "choke()", "restart()", "say(1, 9)",
-                "closeBar()", "choke()", "restart()");
+        List<Step> script = new ArrayList<>();
+        for (int side = 0; side < 2; side++) {
+            script.add(new Step("restart"));
+            for (int word = 0; word < 6; word++) {
+                script.add(new Step("say", word, 50 * word));
+            }
+            script.addAll(steps("closeBar()", "choke()"));
+        }
+        script.add(new Step("restart"));
         script.addAll(bars());
         return script;
     }
