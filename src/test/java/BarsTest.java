@@ -260,7 +260,7 @@ public final class BarsTest {
         Check.due("30 not to words gone, or lost by choking", 0, () -> y.answers(0));
     }
 
-    /** Word 0 is gone by beginning anew, 1 is lost by choking, and 2 by 3, which is barred; with that a round is over. */
+    /** Word 0 is gone by beginning anew, 1 is lost by choking, and 2 by 3, which is barred; that was a round. */
     private static Tape withLostWords(int rounds) {
         Tape x = Ring.inBattle(3, rounds, 1);
         int barred = Ring.wordOf(x, 0, 7, 9791);

@@ -29,7 +29,7 @@ final class Check {
         int calls = x.length();
         due(what, "throws." + want.getName(), call);
         due(what + " is one call", calls + 1, x::length);
-        due(what + " changes", "nothing", () -> Probe.changeByTheLast(x));
+        due(what + " changes", Probe.NOTHING, () -> Probe.changeByTheLast(x));
     }
 
     /** A call throws so for the numbers next to a range, and for those that are farthest out of it. */

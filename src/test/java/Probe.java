@@ -6,6 +6,8 @@ import java.util.List;
  * made, the open bar, what was read. Each script begins with the same calls on a ring of its own.
  */
 final class Probe {
+    static final String NOTHING = "nothing";
+
     private static final int[] PERFORMERS = {0, 1, 2, 3, 9};
     private static final List<List<Step>> SCRIPTS = List.of(words(), accents(), made(), league(), dodges(), offer(),
             nextBattle(), turn(), openBar(), begunAnew(), topics(), decision(), season(), styles(), bars(),
@@ -14,33 +16,56 @@ final class Probe {
     private Probe() {
     }
 
-    /** All answers to the scripts, each on a new ring behind the first calls of a tape; none is asked too much. */
-    static List<String> told(Tape tape, int calls, int room) {
-        List<String> told = new ArrayList<>();
-        for (List<Step> script : SCRIPTS) {
-            CypherRing ring = tape.played(calls);
-            for (Step step : script.subList(0, Math.min(room, script.size()))) {
-                told.add(step + " = " + step.answerOn(ring));
-            }
-        }
-        return told;
-    }
-
-    /** Tells whether the last call of a tape changed nothing that can be told. */
+    /** The first answer that the last call of a tape has changed, or "nothing". */
     static String changeByTheLast(Tape tape) {
-        int calls = tape.length();
-        int room = Tape.MOST_CALLS - calls;
-        return difference(told(tape, calls - 1, room), told(tape, calls, room));
+        return change(tape, tape.length() - 1, tape, tape.length());
     }
 
-    /** The first answer behind something that is not the one before. */
-    static String difference(List<String> before, List<String> behind) {
-        for (int i = 0; i < before.size(); i++) {
-            if (!before.get(i).equals(behind.get(i))) {
-                return behind.get(i) + " in place of " + before.get(i);
+    /** The first answer behind some calls of a tape that is another one behind those of another tape, or "nothing". */
+    static String change(Tape before, int callsBefore, Tape behind, int callsBehind) {
+        int room = Tape.MOST_CALLS - Math.max(callsBefore, callsBehind);
+        for (List<Step> script : SCRIPTS) {
+            List<Step> steps = script.subList(0, Math.min(room, script.size()));
+            List<String> told = answers(before.played(callsBefore), steps);
+            String change = difference(steps, told, answers(behind.played(callsBehind), steps));
+            if (change.equals(NOTHING)) {
+                // A step that is refused, too, might hide a change by doing just the same to both rings.
+                List<Step> taken = taken(steps, told);
+                change = difference(taken, answers(before.played(callsBefore), taken),
+                        answers(behind.played(callsBehind), taken));
+            }
+            if (!change.equals(NOTHING)) {
+                return change;
             }
         }
-        return "nothing";
+        return NOTHING;
+    }
+
+    private static List<String> answers(CypherRing ring, List<Step> steps) {
+        List<String> answers = new ArrayList<>();
+        for (Step step : steps) {
+            answers.add(step.answerOn(ring));
+        }
+        return answers;
+    }
+
+    private static List<Step> taken(List<Step> steps, List<String> answers) {
+        List<Step> taken = new ArrayList<>();
+        for (int i = 0; i < steps.size(); i++) {
+            if (!answers.get(i).startsWith("throws.")) {
+                taken.add(steps.get(i));
+            }
+        }
+        return taken;
+    }
+
+    private static String difference(List<Step> steps, List<String> before, List<String> behind) {
+        for (int i = 0; i < steps.size(); i++) {
+            if (!before.get(i).equals(behind.get(i))) {
+                return steps.get(i) + ": " + behind.get(i) + " in place of " + before.get(i);
+            }
+        }
+        return NOTHING;
     }
 
     private static List<Step> steps(String... calls) {

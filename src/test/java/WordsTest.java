@@ -43,18 +43,33 @@ public final class WordsTest {
     }
 
     private static void aNewObject() {
+        nothingIsThere("the first one");
+        Tape other = Ring.inBattle(3, 1, 1);
+        other.addJudge(1111, 0);
+        other.addSample(0, 99, 100);
+        Ring.bar(other, 0);
+        nothingIsThere("beside another one");
+        Check.due("1 the other one is as it was", 1, other::bars);
+        Check.due("1 the other one is in its battle", 1, other::side);
+    }
+
+    private static void nothingIsThere(String which) {
+        String what = "1 " + which + ": ";
         Tape x = new Tape();
-        Check.dueThrow(x, "1 new: no word", INDEX, () -> x.syllables(0));
-        Check.dueThrow(x, "1 new: no performer", INDEX, () -> x.rating(0));
-        Check.dueThrow(x, "1 new: no judge", INDEX, () -> x.card(0, 0, 0));
-        Check.dueThrow(x, "1 new: no sample", INDEX, () -> x.needsClearing(0));
-        Check.due("1 new: draft is empty", 0, x::clearSyllables);
-        Check.due("1 new: no battle", false, x::isOn);
-        Check.due("1 new: no bars", 0, x::bars);
-        Check.dueThrow(x, "1 new: nothing to read", NONE, x::read);
-        Ring.inBattle(3, 1, 1);
-        Tape y = new Tape();
-        Check.due("1 two rings share nothing", Probe.told(x, 0, 512), () -> Probe.told(y, 0, 512));
+        Check.dueThrow(x, what + "no word", INDEX, () -> x.syllables(0));
+        Check.dueThrow(x, what + "no performer", INDEX, () -> x.rating(0));
+        Check.dueThrow(x, what + "no judge", INDEX, () -> x.card(0, 0, 0));
+        Check.dueThrow(x, what + "no sample", INDEX, () -> x.needsClearing(0));
+        Check.dueThrow(x, what + "no marks", NONE, () -> x.marks(0, 0, 0, 0));
+        Check.dueThrow(x, what + "nothing to read", NONE, x::read);
+        Check.due(what + "no syllable", 0, x::clearSyllables);
+        Check.due(what + "no battle", false, x::isOn);
+        Check.due(what + "no bars", 0, x::bars);
+        Check.due(what + "no time", 0L, x::elapsed);
+        Check.due(what + "the first word", 0, () -> Ring.word(x, 1111));
+        Check.due(what + "the first performer", 0, () -> x.addPerformer(0));
+        Check.due(what + "the first judge", 0, () -> x.addJudge(0, 0));
+        Check.due(what + "the first sample", 0, () -> x.addSample(0, 1, 0));
     }
 
     private static void addSyllable() {
