@@ -108,11 +108,11 @@ public final class EdgesTest {
                 FIRST_TURN, new String[] {"read()"}).playAll();
     }
 
-    /** Almost all places taken, a word made, a second battle: there is much that a refused call could change. */
+    /** All places taken, or all but a word's; a word that is made, a second battle: much that could be changed. */
     private static void richStates() {
         String[] all = allTaken(23);
         new EdgesTest("rich, first turn", all, FOUR_SYLLABLES, RICH).playAll();
-        new EdgesTest("rich, second turn", all, ONE_UNSTRESSED, RICH, RICH_SECOND_TURN).playAll();
+        new EdgesTest("rich, second turn", allTaken(24), FOUR_SYLLABLES, RICH, RICH_SECOND_TURN).playAll();
         new EdgesTest("rich, waiting", all, FOUR_SYLLABLES, RICH, RICH_SECOND_TURN, RICH_END).playAll();
         new EdgesTest("rich, decided", all, ONE_UNSTRESSED, RICH, RICH_SECOND_TURN, RICH_END, DECISION).playAll();
         new EdgesTest("rich, the next challenge", all, FOUR_SYLLABLES, RICH, RICH_SECOND_TURN, RICH_END, DECISION,
