@@ -853,16 +853,13 @@ public final class CypherRing {
         }
 
         static int rank(char kind) {
-            switch (kind) {
-                case 'p':
-                    return 3;
-                case 'v':
-                    return 2;
-                case 's':
-                    return 1;
-                default:
-                    return 0;
+            if (kind == 'p') {
+                return 3;
             }
+            if (kind == 'v') {
+                return 2;
+            }
+            return kind == 's' ? 1 : 0;
         }
 
         /* The other word that rhymes best, or -1. */
